@@ -238,33 +238,22 @@ public final class PagedMachine {
         }
 
         private long part(int address, int size) {
-            if (!isAddress(address)) {
+            if (address < 0 || address >= BYTES) {
                 return 0;
             }
             long octa = octas[address >> 3];
-            return size >= 8 ? octa : octa >>> shiftOf(address, size) & maskOf(size);
+            int shift = 8 * (8 - size - (address & 7 & -size));
+            return size == 8 ? octa : octa >>> shift & (1L << 8 * size) - 1;
         }
 
         private void put(int address, int size, long value) {
-            if (!isAddress(address)) {
+            if (address < 0 || address >= BYTES) {
                 return;
             }
             int at = address >> 3;
-            if (size >= 8) {
-                octas[at] = value;
-                return;
-            }
-            int shift = shiftOf(address, size);
-            long mask = maskOf(size);
-            octas[at] = octas[at] & ~(mask << shift) | (value & mask) << shift;
-        }
-
-        private static int shiftOf(int address, int size) {
-            return 8 * (8 - size - (address & 7 & -size));
-        }
-
-        private static long maskOf(int size) {
-            return (1L << 8 * size) - 1;
+            int shift = 8 * (8 - size - (address & 7 & -size));
+            long mask = size == 8 ? -1 : (1L << 8 * size) - 1 << shift;
+            octas[at] = octas[at] & ~mask | value << shift & mask;
         }
     }
 
@@ -477,7 +466,9 @@ public final class PagedMachine {
                 return;
             }
             if (isMarginal(k)) {
-                Arrays.fill(values, locals, k, 0L);
+                for (int i = locals; i < k; i++) {
+                    values[i] = 0;
+                }
                 locals = k + 1;
             }
             values[k] = value;
@@ -618,7 +609,6 @@ public final class PagedMachine {
         private static final int FIRST_BRANCH = 60;
         private static final int JMP = 66;
         private static final int PUSHJ = 67;
-        private static final int POP = 68;
         private static final int GETA = 69;
         private static final int FIRST_SET = 70;
         private static final int FIRST_INC = 74;
@@ -1500,6 +1490,9 @@ public final class PagedMachine {
                 if (!readOperand(slot) || !isRight(slot) || !takeOperand(slot)) {
                     return false;
                 }
+                if (form >= BYTE && !layData()) {
+                    return false;
+                }
                 count++;
                 if (reader.peek() != ',') {
                     return isEnough() || reader.fail(3, reader.at);
@@ -1669,9 +1662,6 @@ public final class PagedMachine {
             if (operand.isAhead && !noteUse(bitsOf(slot))) {
                 return false;
             }
-            if (form >= BYTE) {
-                return layData();
-            }
             if (count >= 0 && count < OPERANDS) {
                 boolean goes = slot == SLOT_BRANCH || slot == SLOT_JUMP;
                 values[count] = goes ? operand.value - address >> 2 : operand.value;
@@ -1719,6 +1709,7 @@ public final class PagedMachine {
                 tell(own, operand.isRegister ? Labels.A_REGISTER : Labels.A_NUMBER, operand.value);
             } else if (form == LOC) {
                 moveAddress(operand.value);
+                tell(own, Labels.AN_ADDRESS, address);
             } else if (form < IS) {
                 lay(4, encode());
             }
@@ -1727,10 +1718,9 @@ public final class PagedMachine {
         private void moveAddress(long to) {
             if (to < 0 || to > BYTES) {
                 reader.fail(5, opPlace);
-                return;
+            } else {
+                address = to;
             }
-            address = to;
-            tell(own, Labels.AN_ADDRESS, address);
         }
 
         private long encode() {
