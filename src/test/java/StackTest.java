@@ -1,0 +1,217 @@
+/** Promise 11 (register): LOCAL, MARGINAL and GLOBAL registers, PUSHJ, POP and the stack's limit. */
+public final class StackTest {
+    public static void main(String[] args) {
+        marginal();
+        global();
+        pushes();
+        pushesAll();
+        pops();
+        popsBehindLast();
+        popsPlace();
+        popsEmpty();
+        nested();
+        limitOfWrites();
+        limitOfPushes();
+        wrongNumbers();
+        Tester.finish("StackTest");
+    }
+
+    /** Runs lines with 597 numbers on the stack and no LOCAL register. */
+    static PagedMachine full(String lines, int end) {
+        return Tester.ran("Main SETL $16,199|A SUB $16,$16,1| PUSHJ $2,B|B BP $16,A|" + lines, end);
+    }
+
+    private static void registers(String what, PagedMachine m, long... values) {
+        Tester.due("rL " + what, m.register(36), values.length);
+        for (int k = 0; k < 16; k++) {
+            Tester.due("$" + k + " " + what, m.register(k), k < values.length ? values[k] : 0);
+        }
+    }
+
+    /** Sets $0, $1, .. to 1, 2, .. */
+    private static String some(int count) {
+        StringBuilder lines = new StringBuilder();
+        for (int k = 0; k < count; k++) {
+            lines.append(" SETL $").append(k).append(',').append(k + 1).append('|');
+        }
+        return lines.toString();
+    }
+
+    private static void marginal() {
+        PagedMachine m = Tester.ran(" SETL $3,9| TRAP 0", 1);
+        registers("behind a write of $3", m, 0, 0, 0, 9);
+        m = Tester.ran(" SETL $3,9| SETL $2,5| TRAP 0", 1);
+        registers("behind a write of a LOCAL one", m, 0, 0, 5, 9);
+        m = Tester.ran(" SETL $15,9| TRAP 0", 1);
+        Tester.due("rL behind a write of $15", m.register(36), 16);
+        m = Tester.ran(some(5) + " PUT 4,$20| SETL $3,9| TRAP 0", 1);
+        registers("those that were MARGINAL are 0", m, 0, 0, 0, 9);
+        m = Tester.ran(" ADD $20,$7,$9| STO $5,$20,128| TRAP 0", 1);
+        registers("behind reading", m);
+        m = Tester.ran(" INCL $2,7| TRAP 0", 1);
+        registers("behind INCL", m, 0, 0, 7);
+        m = Tester.ran(" LDB $1,$0| TRAP 0", 1);
+        registers("behind LDB", m, 0, 37);
+    }
+
+    private static void global() {
+        PagedMachine m = Tester.ran(" SETL $16,1| SETL $31,2| PUSHJ $0,A|A ADD $17,$16,$31| TRAP 0", 1);
+        Tester.due("$16", m.register(16), 1);
+        Tester.due("$17", m.register(17), 3);
+        Tester.due("$31", m.register(31), 2);
+        Tester.due("rL", m.register(36), 0);
+    }
+
+    private static void pushes() {
+        PagedMachine m = Tester.ran(some(5) + " PUSHJ $2,A| SWYM| SWYM|A TRAP 0", 1);
+        registers("behind PUSHJ $2", m, 4, 5);
+        Tester.due("depth", m.register(38), 3);
+        Tester.due("rJ", m.register(35), 24);
+        Tester.due("the place", m.register(37), 36);
+        m = Tester.ran(some(5) + " PUSHJ $4,A|A TRAP 0", 1);
+        registers("behind PUSHJ $4", m);
+        Tester.due("depth", m.register(38), 5);
+        m = Tester.ran(some(2) + " PUSHJ $5,A|A TRAP 0", 1);
+        registers("behind PUSHJ of a MARGINAL one", m);
+        Tester.due("depth", m.register(38), 6);
+        m = Tester.ran(some(2) + " PUSHJ $0,A|A TRAP 0", 1);
+        registers("behind PUSHJ $0", m, 2);
+        Tester.due("depth", m.register(38), 1);
+        m = Tester.ran(" JMP B|A TRAP 0|B PUSHJ $0,A", 1);
+        Tester.due("rJ of a PUSHJ back", m.register(35), 12);
+    }
+
+    private static void pushesAll() {
+        for (int x = 16; x < 256; x += x == 16 ? 15 : x == 31 ? 1 : 223) {
+            PagedMachine m = Tester.ran(some(3) + " TETRA #43000001+" + (x << 16) + "| TRAP 0", 1);
+            registers("behind PUSHJ " + x, m);
+            Tester.due("depth behind PUSHJ " + x, m.register(38), 4);
+            m = Tester.ran(some(3) + " TETRA #43000002+" + (x << 16) + "| TRAP 0| POP", 1);
+            registers("behind PUSHJ " + x + " and POP", m, 1, 2, 3);
+            Tester.due("depth behind POP", m.register(38), 0);
+            m = Tester.ran(" TETRA #43000001+" + (x << 16) + "| TRAP 0", 1);
+            Tester.due("depth behind PUSHJ " + x + " without LOCAL ones", m.register(38), 1);
+        }
+        PagedMachine m = Tester.ran(some(16) + " PUSHJ $16,A| TRAP 0|A SETL $0,7| POP 1", 1);
+        registers("behind sixteen and POP 1", m, 1, 2, 3, 4, 5, 6, 7, 8, 9, 10, 11, 12, 13, 14, 15, 16);
+        m = Tester.ran(some(16) + " PUSHJ $15,A| TRAP 0|A SETL $0,7| SETL $1,8| POP 2", 1);
+        registers("behind fifteen and POP 2", m, 1, 2, 3, 4, 5, 6, 7, 8, 9, 10, 11, 12, 13, 14, 15, 8);
+    }
+
+    private static void pop(String from, int x, long... values) {
+        PagedMachine m = Tester.ran(some(3) + " PUSHJ $2,A| TRAP 0|A SWYM|" + from + " POP " + x, 1);
+        registers("behind POP " + x + " of " + from, m, values);
+        Tester.due("depth behind POP " + x, m.register(38), 0);
+    }
+
+    private static void pops() {
+        String three = " SETL $0,21| SETL $1,22| SETL $2,23|";
+        pop(three, 0, 1, 2);
+        pop(three, 1, 1, 2, 21);
+        pop(three, 2, 1, 2, 22, 21);
+        pop(three, 3, 1, 2, 23, 21, 22);
+        pop(three, 4, 1, 2, 0, 21, 22, 23);
+        pop(three, 5, 1, 2, 0, 21, 22, 23);
+        pop(three, 16, 1, 2, 0, 21, 22, 23);
+        pop(three, 255, 1, 2, 0, 21, 22, 23);
+        pop("", 0, 1, 2);
+        pop("", 1, 1, 2, 0);
+        pop("", 200, 1, 2, 0);
+    }
+
+    private static void popsBehindLast() {
+        PagedMachine m = Tester.ran(some(14) + " PUSHJ $13,A| TRAP 0|A SETL $0,21| SETL $1,22| SETL $2,23"
+                + "| SETL $3,24| POP 4", 1);
+        registers("what would come behind $15 is lost", m,
+                1, 2, 3, 4, 5, 6, 7, 8, 9, 10, 11, 12, 13, 24, 21, 22);
+        m = Tester.ran(some(16) + " PUSHJ $0,A| TRAP 0|A POP 255", 1);
+        registers("fifteen behind a 0", m, 0, 2, 3, 4, 5, 6, 7, 8, 9, 10, 11, 12, 13, 14, 15, 16);
+        m = Tester.ran(" PUSHJ $0,A| TRAP 0|A SETL $15,9| SETL $0,1| POP 16", 1);
+        registers("POP 16 of sixteen", m, 9, 1, 0, 0, 0, 0, 0, 0, 0, 0, 0, 0, 0, 0, 0, 0);
+        m = Tester.ran(" PUSHJ $0,A| TRAP 0|A SETL $15,9| SETL $0,1| POP 17", 1);
+        registers("POP 17 of sixteen", m, 0, 1, 0, 0, 0, 0, 0, 0, 0, 0, 0, 0, 0, 0, 0, 0);
+    }
+
+    private static void popsPlace() {
+        PagedMachine m = Tester.ran(" PUSHJ $0,A| SWYM| SWYM| TRAP 0|A POP 0,2", 1);
+        Tester.due("POP 0,2", m.steps(), 3);
+        m = Tester.assembled(" PUSHJ $0,A|A POP 0,65535");
+        Tester.due("run", m.run(2), 0);
+        Tester.due("without sign", m.register(37), 4 + 4 * 65535);
+        m = Tester.assembled(" NEG $20,0,7| PUSHJ $0,A|A PUT 3,$20| POP 0,1");
+        Tester.due("run", m.run(4), 0);
+        Tester.due("from rJ", m.register(37), -3);
+    }
+
+    private static void popsEmpty() {
+        PagedMachine m = Tester.ran(some(2) + " POP 1", 8);
+        registers("behind POP of nothing", m, 1, 2);
+        Tester.due("steps", m.steps(), 2);
+        Tester.due("the place", m.register(37), 8);
+        m = Tester.ran(" PUSHJ $0,A| POP|A POP", 8);
+        Tester.due("steps", m.steps(), 2);
+    }
+
+    /** The sum of 10 to 1, by calls within calls. */
+    private static void nested() {
+        PagedMachine m = Tester.ran("Main SETL $1,10| PUSHJ $0,Sum| TRAP 0|Sum BNZ $0,More| POP 1"
+                + "|More GET $1,3| SUB $3,$0,1| PUSHJ $2,Sum| PUT 3,$1| ADD $0,$0,$2| POP 1", 1);
+        Tester.due("the sum", m.register(0), 55);
+        Tester.due("depth", m.register(38), 0);
+    }
+
+    private static void limitOfWrites() {
+        PagedMachine m = full(" SETL $2,7| TRAP 0", 1);
+        Tester.due("600 are fine: depth", m.register(38), 597);
+        Tester.due("600 are fine: rL", m.register(36), 3);
+        String[] lines = {
+            " SETL $3,7", " INCL $3,7", " ADD $3,$1,$2", " NEG $3,1,2", " LDB $3,$1", " LDO $3,$1",
+            " LDA $3,$1", " GO $3,$1", " GETA $3,@", " GET $3,4", " DIV $3,$1,0", " MULU $3,$1,$1",
+            " SETL $15,7", " SETL $2,1| SETL $3,1"
+        };
+        for (String line : lines) {
+            m = full(line, 5);
+            Tester.due("depth behind" + line, m.register(38), 597);
+            Tester.due("$3 behind" + line, m.register(3), 0);
+            Tester.due("told(5) behind" + line, m.told(5), 5);
+        }
+        full(" STB $15,$20,255| TRAP 0", 1);
+        full(" BZ $15,@+4| PUT 0,$15| SETL $16,5| TRAP 0", 1);
+        m = full(" SETML $20,1| DIV $3,$20,7", 5);
+        Tester.due("nothing is done, rR", m.register(34), 0);
+        m = full(" SETL $2,7| PUT 4,$20| SETL $2,7| TRAP 0", 1);
+        Tester.due("rL counts", m.register(36), 3);
+    }
+
+    private static void limitOfPushes() {
+        PagedMachine m = full(" PUSHJ $2,C|C TRAP 0", 1);
+        Tester.due("600 on the stack", m.register(38), 600);
+        m = full(" PUSHJ $3,C|C TRAP 0", 5);
+        Tester.due("601 are too many", m.register(38), 597);
+        Tester.due("rJ is as it was", m.register(35), 12);
+        m = full(" SETL $1,1| PUSHJ $16,C|C TRAP 0", 1);
+        Tester.due("two and their number", m.register(38), 600);
+        m = full(" SETL $2,1| PUSHJ $16,C|C TRAP 0", 5);
+        Tester.due("three and their number", m.register(38), 597);
+        Tester.due("rL", m.register(36), 3);
+        m = full(" SETL $2,1| PUSHJ $0,C|C PUSHJ $0,D|D PUSHJ $0,E|E TRAP 0", 1);
+        Tester.due("one by one", m.register(38), 600);
+        m = full(" SETL $2,1| PUSHJ $0,C|C PUSHJ $0,D|D PUSHJ $0,E|E PUSHJ $0,F|F TRAP 0", 5);
+        Tester.due("one too many", m.register(38), 600);
+        m = full(" PUSHJ $2,C| TRAP 0|C POP 255", 1);
+        Tester.due("POP gives them back", m.register(38), 597);
+        Tester.due("with a 0 behind", m.register(36), 3);
+        m = full(" PUSHJ $2,C|C SETL $0,1", 5);
+        Tester.due("no LOCAL one behind 600", m.register(36), 0);
+    }
+
+    private static void wrongNumbers() {
+        PagedMachine m = Tester.ran(some(16) + " SETL $31,5| PUSHJ $1,A|A TRAP 0", 1);
+        Tester.due("register(-1)", m.register(-1), 0);
+        Tester.due("register(39)", m.register(39), 0);
+        Tester.due("register(MIN)", m.register(Integer.MIN_VALUE), 0);
+        Tester.due("register(MAX)", m.register(Integer.MAX_VALUE), 0);
+        Tester.due("register(31)", m.register(31), 5);
+        Tester.due("register(38)", m.register(38), 2);
+    }
+}
