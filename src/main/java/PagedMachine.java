@@ -25,6 +25,17 @@ public final class PagedMachine {
     private static final int END_OUT = 7;
     private static final int END_EMPTY = 8;
 
+    private static final int FAULT_STANDS = 1;
+    private static final int FAULT_LABEL = 2;
+    private static final int FAULT_KIND = 3;
+    private static final int FAULT_FIT = 4;
+    private static final int FAULT_LAID = 5;
+    private static final int FAULT_LABELS = 6;
+    private static final int FAULT_ENDS = 11;
+    private static final int FAULT_RECORD = 12;
+    private static final int FAULT_ADDRESS = 13;
+    private static final int FAULT_OFFSET = 14;
+
     private final byte[] tape = new byte[TAPE_MOST];
     private final Image image = new Image();
     private final Memory memory = new Memory();
@@ -523,10 +534,7 @@ public final class PagedMachine {
             }
             int back = (int) top;
             int kept = Math.min(x, locals + 1);
-            long main = x > 0 ? read(Math.min(x - 1, FIRST_GLOBAL)) : 0;
-            if (x > locals) {
-                main = 0;
-            }
+            long main = x > 0 && x <= locals ? read(x - 1) : 0;
             for (int i = kept - 2; i >= 0; i--) {
                 moveUp(i, back + 1 + i);
             }
@@ -1058,7 +1066,7 @@ public final class PagedMachine {
                 }
                 at++;
             }
-            return fail(1, first);
+            return fail(FAULT_STANDS, first);
         }
 
         /** The digits here as a number, -1 if they tell one above 2^63 - 1. */
@@ -1111,14 +1119,14 @@ public final class PagedMachine {
                 int digit = hexDigit(peek());
                 if (digit < 0) {
                     if (count == 0) {
-                        fail(1, at);
+                        fail(FAULT_STANDS, at);
                     }
                     return value;
                 }
                 value = value << 4 | digit;
                 at++;
             }
-            fail(1, first);
+            fail(FAULT_STANDS, first);
             return 0;
         }
 
@@ -1127,12 +1135,12 @@ public final class PagedMachine {
             at++;
             int value = peek();
             if (value == LINE_END) {
-                fail(1, at);
+                fail(FAULT_STANDS, at);
                 return 0;
             }
             at++;
             if (peek() != '\'') {
-                fail(1, at);
+                fail(FAULT_STANDS, at);
                 return 0;
             }
             at++;
@@ -1147,7 +1155,7 @@ public final class PagedMachine {
                 at++;
             }
             if (at == first || isAtLineEnd()) {
-                fail(1, at);
+                fail(FAULT_STANDS, at);
                 return 0;
             }
             at++;
@@ -1289,6 +1297,7 @@ public final class PagedMachine {
         private static final int NAME_WIDTH = 5;
         private static final String NAMES =
                 "MUL  DIV  ADD  SUB  CMP  CMPU MULU DIVU AND  OR   XOR  ANDN SL   SR   SRU  LDB  LDBU LDT  LDO  STB  STT  STO  LDA  GO   NEG  BN   BZ   BP   BNN  BNZ  BNP  GETA PUSHJJMP  SETL SETMLSETMHSETH INCL INCMLINCMHINCH GET  PUT  POP  TRAP SWYM IS   LOC  BYTE TETRAOCTA ";
+        /** In the order of the names: the op, the even one of two; 0 where nothing is laid by it. */
         private static final int[] CODES = {
             2, 4, 6, 8, 10, 12, 14, 16, 18, 20, 22, 24, 26, 28, 30,
             36, 38, 40, 42, 44, 46, 48, 50, 52, 32,
@@ -1296,6 +1305,7 @@ public final class PagedMachine {
             70, 71, 72, 73, 74, 75, 76, 77, 78, 79, 68, 0, 80,
             0, 0, 0, 0, 0
         };
+        /** In the order of the names: which operands it takes, as a row of the tables below. */
         private static final int[] FORMS = {
             0, 0, 0, 0, 0, 0, 0, 0, 0, 0, 0, 0, 0, 0, 0,
             0, 0, 0, 0, 0, 0, 0, 0, 0, 1,
@@ -1329,27 +1339,28 @@ public final class PagedMachine {
         private static final int SLOT_EITHER = 3;
         private static final int SLOT_BRANCH = 4;
         private static final int SLOT_JUMP = 5;
+        private static final int SLOT_NUMBER = 6;
         private static final int SLOT_OCTA = 7;
         private static final int SLOT_ANY = 8;
         private static final int OPERANDS = 3;
 
         /** By form: what its first, second, third operand may be. */
         private static final int[] SLOTS = {
-            0, 0, 3,
-            0, 3, 3,
-            0, 4, 4,
-            5, 5, 5,
-            0, 2, 2,
-            0, 1, 1,
-            1, 0, 0,
-            1, 2, 2,
-            1, 1, 1,
-            1, 1, 1,
-            8, 8, 8,
-            6, 6, 6,
-            6, 6, 6,
-            6, 6, 6,
-            7, 7, 7
+            SLOT_REGISTER, SLOT_REGISTER, SLOT_EITHER,
+            SLOT_REGISTER, SLOT_EITHER, SLOT_EITHER,
+            SLOT_REGISTER, SLOT_BRANCH, SLOT_BRANCH,
+            SLOT_JUMP, SLOT_JUMP, SLOT_JUMP,
+            SLOT_REGISTER, SLOT_WYDE, SLOT_WYDE,
+            SLOT_REGISTER, SLOT_BYTE, SLOT_BYTE,
+            SLOT_BYTE, SLOT_REGISTER, SLOT_REGISTER,
+            SLOT_BYTE, SLOT_WYDE, SLOT_WYDE,
+            SLOT_BYTE, SLOT_BYTE, SLOT_BYTE,
+            SLOT_BYTE, SLOT_BYTE, SLOT_BYTE,
+            SLOT_ANY, SLOT_ANY, SLOT_ANY,
+            SLOT_NUMBER, SLOT_NUMBER, SLOT_NUMBER,
+            SLOT_NUMBER, SLOT_NUMBER, SLOT_NUMBER,
+            SLOT_NUMBER, SLOT_NUMBER, SLOT_NUMBER,
+            SLOT_OCTA, SLOT_OCTA, SLOT_OCTA
         };
 
         private final Reader reader;
@@ -1395,7 +1406,7 @@ public final class PagedMachine {
             }
             int untold = labels.firstUntold();
             if (untold >= 0) {
-                return reader.fail(2, untold);
+                return reader.fail(FAULT_LABEL, untold);
             }
             int main = labels.find(MAIN, 0);
             if (labels.kindOf(main) == Labels.AN_ADDRESS) {
@@ -1429,26 +1440,26 @@ public final class PagedMachine {
             }
             own = labels.find(reader.front, reader.back);
             if (labels.kindOf(own) != Labels.UNTOLD) {
-                return reader.fail(2, first);
+                return reader.fail(FAULT_LABEL, first);
             }
             if (own < 0) {
                 own = labels.add(reader.front, reader.back);
             }
             if (own < 0) {
-                return reader.fail(6, first);
+                return reader.fail(FAULT_LABELS, first);
             }
-            return reader.peek() == ' ' || reader.isAtLineEnd() || reader.fail(1, reader.at);
+            return reader.peek() == ' ' || reader.isAtLineEnd() || reader.fail(FAULT_STANDS, reader.at);
         }
 
         private boolean readOp() {
             opPlace = reader.at;
             op = findOp(reader.readOpKey());
             if (op < 0) {
-                return reader.fail(1, opPlace);
+                return reader.fail(FAULT_STANDS, opPlace);
             }
             form = FORMS[op];
             if (form == IS && own < 0) {
-                return reader.fail(1, opPlace);
+                return reader.fail(FAULT_STANDS, opPlace);
             }
             count = 0;
             Arrays.fill(values, 0L);
@@ -1480,10 +1491,10 @@ public final class PagedMachine {
         private boolean readOperands() {
             reader.skipBlanks();
             if (reader.isAtLineEnd()) {
-                return LEAST[form] == 0 || reader.fail(1, reader.at);
+                return LEAST[form] == 0 || reader.fail(FAULT_STANDS, reader.at);
             }
             if (MOST[form] == 0) {
-                return reader.fail(3, reader.at);
+                return reader.fail(FAULT_KIND, reader.at);
             }
             for (int left = reader.length; left > 0; left--) {
                 int slot = SLOTS[form * OPERANDS + Math.min(count, OPERANDS - 1)];
@@ -1495,11 +1506,11 @@ public final class PagedMachine {
                 }
                 count++;
                 if (reader.peek() != ',') {
-                    return isEnough() || reader.fail(3, reader.at);
+                    return isEnough() || reader.fail(FAULT_KIND, reader.at);
                 }
                 reader.at++;
                 if (isMost()) {
-                    return reader.fail(3, reader.at);
+                    return reader.fail(FAULT_KIND, reader.at);
                 }
             }
             return false;
@@ -1530,7 +1541,7 @@ public final class PagedMachine {
                     return false;
                 }
                 if (operand.isRegister && (first != operand.place || isAtSign())) {
-                    return reader.fail(3, first);
+                    return reader.fail(FAULT_KIND, first);
                 }
                 operand.value = minus ? operand.value - term : operand.value + term;
                 if (!isAtSign()) {
@@ -1549,7 +1560,7 @@ public final class PagedMachine {
 
         private boolean seesEnd() {
             int here = reader.peek();
-            return here == ',' || here == ' ' || here == Reader.LINE_END || reader.fail(1, reader.at);
+            return here == ',' || here == ' ' || here == Reader.LINE_END || reader.fail(FAULT_STANDS, reader.at);
         }
 
         private long readTerm(int slot) {
@@ -1573,7 +1584,7 @@ public final class PagedMachine {
             }
             long value = reader.isAtDigit() ? reader.readDigits() : -1;
             if (value < 0) {
-                reader.fail(1, first);
+                reader.fail(FAULT_STANDS, first);
             }
             return value;
         }
@@ -1582,12 +1593,12 @@ public final class PagedMachine {
             int first = reader.at;
             reader.at++;
             if (!reader.isAtDigit()) {
-                reader.fail(1, reader.at);
+                reader.fail(FAULT_STANDS, reader.at);
                 return 0;
             }
             long k = reader.readDigits();
             if (k < 0 || k >= REGISTERS) {
-                reader.fail(1, first);
+                reader.fail(FAULT_STANDS, first);
             }
             operand.isRegister = true;
             return k;
@@ -1603,7 +1614,7 @@ public final class PagedMachine {
             if (kind == Labels.UNTOLD || label == own) {
                 boolean whole = first == operand.place && !isAtSign();
                 if (!whole || bitsOf(slot) == 0) {
-                    reader.fail(2, first);
+                    reader.fail(FAULT_LABEL, first);
                 }
                 operand.isAhead = kind == Labels.UNTOLD;
                 operand.label = label;
@@ -1634,12 +1645,12 @@ public final class PagedMachine {
             }
             if (operand.isRegister) {
                 return slot == SLOT_REGISTER || slot == SLOT_EITHER || slot == SLOT_ANY
-                        || reader.fail(3, operand.place);
+                        || reader.fail(FAULT_KIND, operand.place);
             }
             if (slot == SLOT_REGISTER) {
-                return reader.fail(3, operand.place);
+                return reader.fail(FAULT_KIND, operand.place);
             }
-            return fitsSlot(slot) || reader.fail(4, operand.place);
+            return fitsSlot(slot) || reader.fail(FAULT_FIT, operand.place);
         }
 
         private boolean fitsSlot(int slot) {
@@ -1663,12 +1674,19 @@ public final class PagedMachine {
                 return false;
             }
             if (count >= 0 && count < OPERANDS) {
-                boolean goes = slot == SLOT_BRANCH || slot == SLOT_JUMP;
-                values[count] = goes ? operand.value - address >> 2 : operand.value;
-                values[count] = operand.isAhead ? 0 : values[count];
+                values[count] = fieldOf(slot);
                 areRegisters[count] = (byte) (operand.isRegister ? 1 : 0);
             }
             return true;
+        }
+
+        /** What goes to the instruction; 0 for a label that will be settled when it is told. */
+        private long fieldOf(int slot) {
+            if (operand.isAhead) {
+                return 0;
+            }
+            boolean goes = slot == SLOT_BRANCH || slot == SLOT_JUMP;
+            return goes ? operand.value - address >> 2 : operand.value;
         }
 
         private boolean noteUse(int bits) {
@@ -1677,7 +1695,7 @@ public final class PagedMachine {
                 label = labels.add(reader.front, reader.back);
             }
             if (label < 0) {
-                return reader.fail(6, operand.place);
+                return reader.fail(FAULT_LABELS, operand.place);
             }
             labels.addUse(label, operand.place, (int) address, bits);
             return true;
@@ -1697,7 +1715,7 @@ public final class PagedMachine {
 
         private boolean lay(int size, long value) {
             if (address < 0 || address + size > BYTES) {
-                return reader.fail(5, opPlace);
+                return reader.fail(FAULT_LAID, opPlace);
             }
             image.put((int) address, size, value);
             address += size;
@@ -1717,7 +1735,7 @@ public final class PagedMachine {
 
         private void moveAddress(long to) {
             if (to < 0 || to > BYTES) {
-                reader.fail(5, opPlace);
+                reader.fail(FAULT_LAID, opPlace);
             } else {
                 address = to;
             }
@@ -1747,9 +1765,12 @@ public final class PagedMachine {
 
         /** The label's uses so far are settled now, in their order. */
         private void tell(int label, int kind, long value) {
+            if (label < 0) {
+                return;
+            }
             labels.set(label, kind, value);
             for (int use = 0; use < labels.uses && reader.fault == 0; use++) {
-                if (label >= 0 && labels.labelOfUse(use) == label) {
+                if (labels.labelOfUse(use) == label) {
                     settle(use, kind, value);
                 }
             }
@@ -1759,21 +1780,25 @@ public final class PagedMachine {
             int to = labels.addressOfUse(use);
             int bits = labels.bitsOfUse(use);
             if (kind == Labels.A_REGISTER) {
-                reader.fail(3, labels.placeOfUse(use));
+                reader.fail(FAULT_KIND, labels.placeOfUse(use));
             } else if (bits == 64) {
                 image.put(to, 8, value);
             } else if (isOffset(value - to, bits)) {
                 image.putOffset(to, bits, value - to >> 2);
             } else {
-                reader.fail(4, labels.placeOfUse(use));
+                reader.fail(FAULT_FIT, labels.placeOfUse(use));
             }
         }
     }
 
     /** Makes an image of a file. */
     private static final class Loader {
+        private static final int MOVE = 1;
         private static final int LAY = 2;
+        private static final int GO_OCTA = 3;
+        private static final int GO_BRANCH = 4;
         private static final int START = 6;
+        private static final int RECORD_LENGTH = 9;
 
         private final byte[] file;
         private final Image image;
@@ -1805,9 +1830,9 @@ public final class PagedMachine {
             }
             place = at;
             if (!ended) {
-                fault = 11;
+                fault = FAULT_ENDS;
             } else if (at < length) {
-                fault = 12;
+                fault = FAULT_RECORD;
             }
             return fault == 0;
         }
@@ -1818,37 +1843,37 @@ public final class PagedMachine {
 
         /** Answers the fault, 0 without one. */
         private int doRecord(int kind) {
-            if (kind < 1 || kind > START) {
-                return 12;
+            if (kind < MOVE || kind > START) {
+                return FAULT_RECORD;
             }
             if (kind == LAY) {
                 return layBytes();
             }
-            if (at + 9 > length) {
-                return 11;
+            if (at + RECORD_LENGTH > length) {
+                return FAULT_ENDS;
             }
             long number = 0;
-            for (int i = 1; i <= 8; i++) {
+            for (int i = 1; i < RECORD_LENGTH; i++) {
                 number = number << 8 | byteAt(at + i);
             }
-            int found = kind == 1 || kind == START ? move(kind, number) : refer(kind, number);
-            at += 9;
+            int found = kind == MOVE || kind == START ? move(kind, number) : refer(kind, number);
+            at += RECORD_LENGTH;
             return found;
         }
 
         private int layBytes() {
             if (at + 2 > length) {
-                return 11;
+                return FAULT_ENDS;
             }
             int n = byteAt(at + 1);
             if (n == 0) {
-                return 12;
+                return FAULT_RECORD;
             }
             if (at + 2 + n > length) {
-                return 11;
+                return FAULT_ENDS;
             }
             if (address + n > BYTES) {
-                return 13;
+                return FAULT_ADDRESS;
             }
             for (int i = 0; i < n; i++) {
                 image.put(address + i, 1, byteAt(at + 2 + i));
@@ -1860,7 +1885,7 @@ public final class PagedMachine {
 
         private int move(int kind, long to) {
             if (to < 0 || to > BYTES) {
-                return 13;
+                return FAULT_ADDRESS;
             }
             if (kind == START) {
                 image.start = (int) to;
@@ -1871,18 +1896,18 @@ public final class PagedMachine {
         }
 
         private int refer(int kind, long to) {
-            long unit = kind == 3 ? 8 : 4;
+            long unit = kind == GO_OCTA ? 8 : 4;
             if (!isAddress(to) || (to & unit - 1) != 0) {
-                return 13;
+                return FAULT_ADDRESS;
             }
-            if (kind == 3) {
+            if (kind == GO_OCTA) {
                 image.put((int) to, 8, address);
                 return 0;
             }
-            int bits = kind == 4 ? 16 : 24;
+            int bits = kind == GO_BRANCH ? 16 : 24;
             long distance = address - to;
             if (!isOffset(distance, bits)) {
-                return 14;
+                return FAULT_OFFSET;
             }
             image.putOffset((int) to, bits, distance >> 2);
             return 0;
