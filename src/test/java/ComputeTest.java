@@ -140,6 +140,9 @@ public final class ComputeTest {
         stored(" STO $2,$0,72", 0x8182838485868788L, 0x8182838485868788L);
         stored(" STO $2,$3,76", 0x8182838485868788L, 0x8182838485868788L);
         stored(" STO $15,$0,64", 0, -1);
+        stored(" SETL $4,72| STB $2,$3,$4", 0x8182838485868788L, 0xFFFFFF88FFFFFFFFL);
+        stored(" SETL $4,72| STT $2,$3,$4", 0x8182838485868788L, 0x85868788FFFFFFFFL);
+        stored(" SETL $4,72| STO $2,$3,$4", 0x8182838485868788L, 0x8182838485868788L);
         PagedMachine m = Tester.ran(" SETL $2,65535| STB $2,$2| SETL $2,65532| STT $2,$2| TRAP 0", 1);
         Tester.due("octa(65528)", m.octa(65528), 65532);
         Tester.due("octa(65535)", m.octa(65535), 65532);

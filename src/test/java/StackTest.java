@@ -124,6 +124,11 @@ public final class StackTest {
                 + "| SETL $3,24| POP 4", 1);
         registers("what would come behind $15 is lost", m,
                 1, 2, 3, 4, 5, 6, 7, 8, 9, 10, 11, 12, 13, 24, 21, 22);
+        for (int x = 10; x <= 16; x++) {
+            m = Tester.ran(" SETL $16,77| SETL $15,9| PUSHJ $" + x + ",A| TRAP 0|A SETL $8,22| POP 9", 1);
+            Tester.due("$16 stays behind PUSHJ $" + x, m.register(16), 77);
+            Tester.due("rL behind PUSHJ $" + x, m.register(36), 16);
+        }
         m = Tester.ran(some(16) + " PUSHJ $0,A| TRAP 0|A POP 255", 1);
         registers("fifteen behind a 0", m, 0, 2, 3, 4, 5, 6, 7, 8, 9, 10, 11, 12, 13, 14, 15, 16);
         m = Tester.ran(" PUSHJ $0,A| TRAP 0|A SETL $15,9| SETL $0,1| POP 16", 1);
@@ -166,7 +171,8 @@ public final class StackTest {
         Tester.due("600 are fine: rL", m.register(36), 3);
         String[] lines = {
             " SETL $3,7", " INCL $3,7", " ADD $3,$1,$2", " NEG $3,1,2", " LDB $3,$1", " LDO $3,$1",
-            " LDA $3,$1", " GO $3,$1", " GETA $3,@", " GET $3,4", " DIV $3,$1,0", " MULU $3,$1,$1",
+            " LDA $3,$1", " LDA $3,$1,$2", " GO $3,$1", " GO $3,$1,$2",
+            " LDO $3,$1,$2", " NEG $3,1,$2", " GETA $3,@", " GET $3,4", " DIV $3,$1,0", " MULU $3,$1,$1",
             " SETL $15,7", " SETL $2,1| SETL $3,1"
         };
         for (String line : lines) {

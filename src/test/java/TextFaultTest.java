@@ -38,6 +38,9 @@ public final class TextFaultTest {
         fault(1, 1, " SWYM;");
         fault(1, 1, " SETMLX $1,2");
         fault(1, 10, " BYTE 1|  ;");
+        fault(1, 1, " \u008E $1,@");
+        fault(1, 1, " AAAAAAAAAAAAPUSHJ $1,@");
+        fault(1, 1, " @ADD $1,$2");
         fault(1, 1, " \t");
         fault(1, 1, " IS 5");
         fault(1, 1, " IS");
