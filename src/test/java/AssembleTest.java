@@ -137,6 +137,8 @@ public final class AssembleTest {
         octa("A OCTA 1,A,A", 16, 0);
         octa(" LOC 9|A OCTA 1,A,@", 24, 16);
         octa(" LOC 9|A OCTA 1,A,@", 32, 32);
+        octa("AZaz09 IS 5|zZ9 IS 6|a| BYTE AZaz09,zZ9,a", 0, 0x0506000000000000L);
+        octa(" BYTE 1|A IS 5| BYTE 2|B LOC 5| BYTE A,B", 0, 0x0102000000050500L);
         word("A JMP A", 0x42000000);
         word("A BZ $1,A", 0x3D010000);
     }

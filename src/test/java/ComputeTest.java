@@ -198,6 +198,12 @@ public final class ComputeTest {
         Tester.due("run", m.run(2), 0);
         Tester.due("GO to where it said", m.register(37), 34);
         Tester.due("GO: x of its own y", m.register(0), 8);
+        m = Tester.assembled(" SETL $31,5| JMP 33554432");
+        Tester.due("run", m.run(2), 0);
+        Tester.due("an offset of 24 bits", m.register(37), 33554432);
+        m = Tester.assembled(" JMP 0-33554432");
+        Tester.due("run", m.run(1), 0);
+        Tester.due("an offset of 24 bits, below 0", m.register(37), -33554432);
         m = Tester.assembled(" JMP @-8");
         Tester.due("run", m.run(1), 0);
         Tester.due("a jump to below 0", m.register(37), -8);

@@ -101,6 +101,8 @@ public final class LoadTest {
         fault(12, 3, lay(1), new int[] {7, 0, 0, 0, 0, 0, 0, 0, 0});
         fault(12, 0, new int[] {255});
         fault(12, 0, new int[] {2, 0}, START);
+        fault(12, 0, new int[] {2, 0});
+        fault(11, 3, lay(1));
         fault(12, 9, START, new int[] {0});
         fault(12, 9, START, START);
         fault(13, 0, record(1, 65537));

@@ -182,6 +182,7 @@ public final class StackTest {
             Tester.due("told(5) behind" + line, m.told(5), 5);
         }
         full(" STB $15,$20,255| TRAP 0", 1);
+        full(" STB $15,$20,$21| STT $15,$20,$21| STO $15,$20,$21| TRAP 0", 1);
         full(" BZ $15,@+4| PUT 0,$15| SETL $16,5| TRAP 0", 1);
         m = full(" SETML $20,1| DIV $3,$20,7", 5);
         Tester.due("nothing is done, rR", m.register(34), 0);
