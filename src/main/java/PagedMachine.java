@@ -1275,6 +1275,7 @@ public final class PagedMachine {
         private int place;
         private long value;
         private boolean isRegister;
+        private boolean isSum;
         private boolean isAhead;
         private int label;
         private int stringLength;
@@ -1286,6 +1287,7 @@ public final class PagedMachine {
             place = at;
             value = 0;
             isRegister = false;
+            isSum = false;
             isAhead = false;
             label = -1;
             stringLength = 0;
@@ -1529,26 +1531,36 @@ public final class PagedMachine {
 
         private boolean readOperand(int slot) {
             operand.clear(reader.at);
-            if (form == BYTE && reader.peek() == '"') {
-                operand.stringLength = reader.passString();
+            if (readLone()) {
                 return reader.fault == 0 && seesEnd();
             }
             boolean minus = false;
             for (int left = reader.length; left > 0; left--) {
-                int first = reader.at;
                 long term = readTerm(slot);
                 if (reader.fault != 0) {
                     return false;
-                }
-                if (operand.isRegister && (first != operand.place || isAtSign())) {
-                    return reader.fail(FAULT_KIND, first);
                 }
                 operand.value = minus ? operand.value - term : operand.value + term;
                 if (!isAtSign()) {
                     return seesEnd();
                 }
+                operand.isSum = true;
                 minus = reader.peek() == '-';
                 reader.at++;
+            }
+            return false;
+        }
+
+        /** Reads what is no TERM, so that no sign may stand behind it nor ahead of it. */
+        private boolean readLone() {
+            if (form == BYTE && reader.peek() == '"') {
+                operand.stringLength = reader.passString();
+                return true;
+            }
+            if (reader.peek() == '$') {
+                operand.isRegister = true;
+                operand.value = readRegister();
+                return true;
             }
             return false;
         }
@@ -1566,9 +1578,6 @@ public final class PagedMachine {
         private long readTerm(int slot) {
             int first = reader.at;
             int here = reader.peek();
-            if (here == '$') {
-                return readRegister();
-            }
             if (here == '#') {
                 return reader.readHex();
             }
@@ -1600,7 +1609,6 @@ public final class PagedMachine {
             if (k < 0 || k >= REGISTERS) {
                 reader.fail(FAULT_STANDS, first);
             }
-            operand.isRegister = true;
             return k;
         }
 
@@ -1644,8 +1652,8 @@ public final class PagedMachine {
                 return true;
             }
             if (operand.isRegister) {
-                return slot == SLOT_REGISTER || slot == SLOT_EITHER || slot == SLOT_ANY
-                        || reader.fail(FAULT_KIND, operand.place);
+                boolean isTaken = slot == SLOT_REGISTER || slot == SLOT_EITHER || slot == SLOT_ANY;
+                return isTaken && !operand.isSum || reader.fail(FAULT_KIND, operand.place);
             }
             if (slot == SLOT_REGISTER) {
                 return reader.fail(FAULT_KIND, operand.place);

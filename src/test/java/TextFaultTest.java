@@ -9,6 +9,7 @@ public final class TextFaultTest {
         labels();
         ahead();
         kinds();
+        registersInSums();
         counts();
         fits();
         settled();
@@ -185,13 +186,33 @@ public final class TextFaultTest {
         fault(3, 14, "A IS $2| OCTA A");
         fault(3, 13, "A IS $2| JMP A");
         fault(3, 12, "A IS 2| ADD A,$1");
-        fault(3, 5, "A IS $1+1");
-        fault(3, 7, "A IS 1+$1");
+    }
+
+    /** $ and digits are no term; a label that is a register is one, and is seen with its operand's end. */
+    private static void registersInSums() {
+        fault(1, 7, "A IS $1+1");
+        fault(1, 7, "A IS 1+$1");
+        fault(1, 11, " SETL $1,1+$3");
+        fault(1, 8, " OCTA 1-$x");
+        fault(1, 6, " SL $2-1");
+        fault(1, 7, " ADD $1+1,$2");
+        fault(1, 8, " OCTA $1-*");
+        fault(1, 7, " ADD $1-$1,$2");
+        fault(1, 6, " ADD $+1,$2");
+        fault(1, 5, " ADD $32+1,$2");
+        fault(1, 16, "A IS $2| OCTA A+$1");
         fault(3, 14, "A IS $2| OCTA A+1");
-        fault(3, 16, "A IS $2| OCTA 1-A");
-        fault(3, 16, "A IS $2| OCTA 1-A+*");
-        fault(3, 5, " ADD $1+1,$2");
-        fault(3, 6, " OCTA $1-*");
+        fault(3, 14, "A IS $2| OCTA 1-A");
+        fault(3, 14, "A IS $2| OCTA 1-A+2,*");
+        fault(3, 13, "A IS $2| ADD A+0,$1");
+        fault(3, 13, "A IS $2| ADD A-A,$1");
+        fault(3, 19, "A IS $2| ADD $1,$2,0+A");
+        fault(3, 13, "A IS $2|B IS 0+A");
+        fault(1, 18, "A IS $2| OCTA 1-A+*");
+        fault(1, 17, "A IS $2| OCTA 1-A*");
+        fault(1, 16, "A IS $2| OCTA A+");
+        fault(2, 16, "A IS $2| OCTA A+B|B");
+        fault(0, -1, "A IS $2| ADD A,A,A");
     }
 
     private static void counts() {
