@@ -1,3 +1,5 @@
+import java.util.Arrays;
+
 /** Promises 6 (load) and 7 (fault) for files, and 4 FILES of the terms. */
 public final class LoadTest {
     private static final int[] START = {6, 0, 0, 0, 0, 0, 0, 0, 0};
@@ -8,6 +10,22 @@ public final class LoadTest {
         faults();
         afterFault();
         begins();
+        numbersOfBytes();
+        laysUpToTheEnd();
+        movesAnywhere();
+        startsAnywhere();
+        octasGo();
+        offsetsGo();
+        cuts();
+        kinds();
+        endsWithStart();
+        theLeastOfSeveral();
+        faultDoesNothing();
+        addressBeginsAtZero();
+        zerosFirst();
+        pagesOnDisk();
+        freshBehindLoad();
+        newRunOnlyIfRight();
         Tester.finish("LoadTest");
     }
 
@@ -159,5 +177,260 @@ public final class LoadTest {
         Tester.due("TRAP 0 where nothing is", m.run(1), 1);
         Tester.due("page 2 was not on the disk", m.told(1), 0);
         Tester.due("but it came", m.told(0), 1);
+    }
+
+    /** "2, a number n of 1 to 255, and n bytes"; "12 .. n = 0". */
+    private static void numbersOfBytes() {
+        PagedMachine m = right(lay(1), START);
+        Tester.due("one byte", m.octa(0), 1L << 56);
+        m = right(lay(255), lay(1), START);
+        Tester.due("255 bytes: the last ones, and the one behind", m.octa(248), 0xF9FAFBFCFDFEFF01L);
+        Tester.due("nothing behind", m.octa(256), 0);
+        fault(12, 3, lay(1), new int[] {2, 0}, START);
+    }
+
+    /** "which goes on"; "a byte that would be laid beyond 65535". */
+    private static void laysUpToTheEnd() {
+        PagedMachine m = right(record(1, 65281), lay(255), START);
+        Tester.due("255 up to 65535", m.octa(65535), 0xF8F9FAFBFCFDFEFFL);
+        fault(13, 9, record(1, 65282), lay(255), START);
+        m = right(record(1, 65535), lay(1), START);
+        Tester.due("one at 65535", m.octa(65528), 1);
+        fault(13, 12, record(1, 65535), lay(1), lay(1), START);
+        m = right(record(1, 65535), lay(1), record(3, 8), START);
+        Tester.due("THE ADDRESS behind the last byte", m.octa(8), 65536);
+        m = new PagedMachine();
+        Tester.due("two at 65535", Tester.load(m, join(record(1, 65535), lay(2), START)), -1);
+        Tester.due("none of them is laid", m.octa(65528), 0);
+    }
+
+    /** "1 and 8 bytes: THE ADDRESS becomes that"; "13 an address that is not 0 to 65535 (1 and 6: 65536)". */
+    private static void movesAnywhere() {
+        long[] rights = {0, 1, 65535, 65536};
+        for (long to : rights) {
+            Tester.due("THE ADDRESS " + to, right(record(1, to), record(3, 0), START).octa(0), to);
+        }
+        long[] wrongs = {65537, -1, 1L << 32, Long.MAX_VALUE, Long.MIN_VALUE, -65536, 1L << 16 | 1L << 48};
+        for (long to : wrongs) {
+            fault(13, 3, lay(1), record(1, to), START);
+        }
+    }
+
+    /** "6 and 8 bytes: a run begins there". */
+    private static void startsAnywhere() {
+        long[] rights = {0, 1, 3, 4, 65535, 65536};
+        for (long to : rights) {
+            Tester.due("THE PLACE " + to, right(record(6, to)).register(37), to);
+        }
+        long[] wrongs = {65537, -1, 1L << 32, Long.MAX_VALUE, Long.MIN_VALUE};
+        for (long to : wrongs) {
+            fault(13, 3, lay(1), record(6, to));
+        }
+    }
+
+    /** "3 and 8 bytes, an address: THE ADDRESS as 8 bytes goes there"; "of 3 to 5, not a multiple of 8, 4, 4". */
+    private static void octasGo() {
+        long[] rights = {0, 8, 65528};
+        for (long to : rights) {
+            PagedMachine m = right(record(1, 0x1234), record(3, to), START);
+            Tester.due("octa at " + to, m.octa((int) to), 0x1234);
+        }
+        PagedMachine m = right(lay(16), record(3, 0), START);
+        Tester.due("all eight bytes go", m.octa(0), 16);
+        Tester.due("and no other", m.octa(8), 0x090A0B0C0D0E0F10L);
+        for (int to = 1; to < 8; to++) {
+            fault(13, 9, record(1, 8), record(3, to), START);
+        }
+        fault(13, 0, record(3, 65536), START);
+        fault(13, 0, record(3, 65535), START);
+        fault(13, 0, record(3, -8), START);
+        fault(13, 0, record(3, Long.MIN_VALUE), START);
+        fault(13, 0, record(3, 1L << 32), START);
+    }
+
+    /** "the offset from that address to THE ADDRESS, by 4, goes to the bytes 2 and 3 behind it; 5 .. 1 to 3". */
+    private static void offsetsGo() {
+        PagedMachine m = right(lay(8), record(1, 65536), record(4, 0), START);
+        Tester.due("4, up by the most", m.octa(0), 0x0102400005060708L);
+        m = right(lay(8), record(1, 65536), record(5, 0), START);
+        Tester.due("5, up by the most", m.octa(0), 0x0100400005060708L);
+        m = right(record(1, 65528), lay(8), record(1, 0), record(4, 65532), START);
+        Tester.due("4, down by the most", m.octa(65528), 0x010203040506C001L);
+        m = right(record(1, 65528), lay(8), record(1, 0), record(5, 65532), START);
+        Tester.due("5, down by the most", m.octa(65528), 0x0102030405FFC001L);
+        m = right(lay(8), record(1, 4), record(4, 4), START);
+        Tester.due("4, by none", m.octa(0), 0x0102030405060000L);
+        m = right(lay(8), record(1, 4), record(5, 0), record(1, 0), record(5, 4), START);
+        Tester.due("5, by one up and down", m.octa(0), 0x0100000105FFFFFFL);
+        for (int kind = 4; kind <= 5; kind++) {
+            for (int off = 1; off < 4; off++) {
+                fault(13, 0, record(kind, off), START);
+                fault(14, 9, record(1, off), record(kind, 0), START);
+                fault(14, 9, record(1, off), record(kind, 8), START);
+            }
+            fault(13, 0, record(kind, 65536), START);
+            fault(13, 0, record(kind, -4), START);
+            fault(13, 0, record(kind, 1L << 33), START);
+        }
+    }
+
+    /** "11 it ends within a record, or without 6". */
+    private static void cuts() {
+        fault(11, 0);
+        for (int kind = 1; kind <= 6; kind++) {
+            int[] record = kind == 2 ? lay(8) : record(kind, 0);
+            for (int length = 1; length < record.length; length++) {
+                fault(11, 0, Arrays.copyOf(record, length));
+                fault(11, 9, record(1, 64), Arrays.copyOf(record, length));
+            }
+            if (kind != 6) {
+                fault(11, record.length, record);
+            }
+        }
+        fault(11, 0, Arrays.copyOf(lay(255), 256));
+        fault(11, 257, lay(255));
+    }
+
+    /** "12 no such record". */
+    private static void kinds() {
+        for (int kind = 0; kind < 256; kind++) {
+            if (kind < 1 || kind > 6) {
+                fault(12, 3, lay(1), record(kind, 0), START);
+                fault(12, 3, lay(1), new int[] {kind});
+            }
+        }
+    }
+
+    /** "it is the last one"; "bytes behind 6 (at the first)". */
+    private static void endsWithStart() {
+        fault(12, 9, START, new int[] {0});
+        fault(12, 9, START, new int[] {6});
+        fault(12, 12, lay(1), START, lay(3), START);
+    }
+
+    /** "of several the least". */
+    private static void theLeastOfSeveral() {
+        fault(11, 9, record(1, 65536), new int[] {2, 3, 1, 2});
+        fault(11, 9, record(1, 65536), new int[] {2});
+        fault(12, 9, record(1, 65536), new int[] {2, 0}, START);
+        fault(11, 9, record(1, 2), new int[] {4, 255, 255, 255, 255, 255, 255, 255});
+        fault(13, 9, record(1, 1), record(4, 65536), START);
+        fault(13, 9, record(1, 1), record(5, 2), START);
+        fault(11, 0, new int[] {6, 255, 255});
+    }
+
+    /** "records ahead of a FAULT have been done, that one does nothing". */
+    private static void faultDoesNothing() {
+        int[][] wrongs = {
+            {2, 0}, {2, 5, 1, 2}, record(1, 65537), record(3, 1), record(4, 2), record(5, 65536), {9}, {6, 0},
+        };
+        for (int[] wrong : wrongs) {
+            PagedMachine m = Tester.ran(" STO $20,$20,128| SETL $20,5| TRAP 0", 1);
+            Tester.due("load", Tester.load(m, join(record(1, 8), lay(8), record(3, 16), wrong)), -1);
+            Tester.due("all bytes were made 0", m.octa(0), 0);
+            Tester.due("8 bytes were laid", m.octa(8), 0x0102030405060708L);
+            Tester.due("THE ADDRESS went", m.octa(16), 16);
+            Tester.due("nothing else", m.octa(24), 0);
+            Tester.due("the place", m.fault(1), 28);
+        }
+        PagedMachine m = new PagedMachine();
+        Tester.due("load", Tester.load(m, join(lay(8), record(1, 2), record(4, 0), START)), -1);
+        Tester.due("an offset that is none does not go", m.octa(0), 0x0102030405060708L);
+        Tester.due("load", Tester.load(m, join(lay(8), record(3, 12), START)), -1);
+        Tester.due("nor to an address that is none", m.octa(8), 0);
+    }
+
+    /** "THE ADDRESS is 0 at first", of each file. */
+    private static void addressBeginsAtZero() {
+        PagedMachine m = right(record(1, 64), lay(8), START);
+        Tester.due("load again", Tester.load(m, join(lay(8), START)), 0);
+        Tester.due("laid at 0", m.octa(0), 0x0102030405060708L);
+        Tester.due("not at 72", m.octa(72), 0);
+        m = right(record(3, 8), START);
+        Tester.due("3 at first", m.octa(8), 0);
+        m = right(record(5, 4), START);
+        Tester.due("5 at first", m.octa(0), 0xFFFFFFL);
+    }
+
+    /** "The loader makes all bytes 0 first", also those of an earlier file and of a run. */
+    private static void zerosFirst() {
+        PagedMachine m = right(lay(255), record(1, 65281), lay(255), START);
+        Tester.due("load again", Tester.load(m, START), 0);
+        for (int address = 0; address < 512; address += 8) {
+            Tester.due("octa(" + address + ")", m.octa(address), 0);
+            Tester.due("octa of the end", m.octa(65024 + address), 0);
+        }
+        Tester.due("an empty file", Tester.load(m, join(lay(8), START)), 0);
+        Tester.due("has a fault", m.load(), -1);
+        Tester.due("and makes all 0", m.octa(0), 0);
+    }
+
+    /** "all PAGES in which something was laid (or went) are on the disk, no other was TOUCHED". */
+    private static void pagesOnDisk() {
+        int[][] ways = {
+            join(record(1, 64), lay(1)), join(record(1, 127), lay(1)), join(record(1, 120), lay(9)),
+            record(3, 64), record(3, 120), join(record(1, 64), record(4, 124)), record(5, 64)
+        };
+        for (int[] way : ways) {
+            PagedMachine m = right(way, record(6, 1024));
+            Tester.due("READS of a page that was not laid", reads(m, 1024), 0);
+            Tester.due("READS of page 1", reads(right(way, record(6, 64)), 64), 1);
+            Tester.due("READS of page 0", reads(right(way, record(6, 0)), 0), 0);
+        }
+        Tester.due("READS of page 2", reads(right(record(1, 120), lay(9), record(6, 128)), 128), 1);
+        Tester.due("READS of page 3", reads(right(record(1, 120), lay(9), record(6, 192)), 192), 0);
+        Tester.due("READS of where THE ADDRESS went alone", reads(right(record(1, 64), record(6, 64)), 64), 0);
+        Tester.due("READS of the last page", reads(right(record(1, 65535), lay(1), record(6, 65528)), 65528), 1);
+    }
+
+    private static int reads(PagedMachine m, int place) {
+        Tester.due("THE PLACE", m.register(37), place);
+        m.run(1);
+        Tester.due("it came", m.told(0), 1);
+        return m.told(1);
+    }
+
+    /** "all FRAMES are free, the hand is at FRAME 0, the CACHE is empty, all counts are 0". */
+    private static void freshBehindLoad() {
+        for (int wrong = 0; wrong < 2; wrong++) {
+            PagedMachine m = new PagedMachine();
+            m.frames(2);
+            Tester.assemble(m, " STB $20,$20,64\n STB $20,$20,128\n LDB $20,$20,192\n TRAP 0\n");
+            Tester.due("run", m.run(9), 1);
+            Tester.due("the hand has gone", m.told(4), 1);
+            int[] file = wrong == 0 ? join(lay(1), record(6, 64)) : lay(1);
+            Tester.due("load", Tester.load(m, file), -wrong);
+            for (int what = 0; what <= 4; what++) {
+                Tester.due("told(" + what + ") behind load", m.told(what), 0);
+            }
+            Tester.due("frame 0", m.page(0), -1);
+            Tester.due("frame 1", m.page(1), -1);
+        }
+        PagedMachine m = Tester.ran(" TRAP 0", 1);
+        Tester.due("load", Tester.load(m, join(lay(1), START)), 0);
+        Tester.due("run", m.run(1), 3);
+        Tester.due("page 0 comes again", m.told(0), 1);
+        Tester.due("it is read again", m.told(1), 1);
+        Tester.due("the cache knew nothing", m.told(3), 1);
+        Tester.due("load", Tester.load(m, record(6, 0)), 0);
+        Tester.due("run", m.run(1), 1);
+        Tester.due("page 0 was not laid now", m.told(1), 0);
+    }
+
+    /** "A loader without a FAULT begins a new run", where record 6 says, and only then. */
+    private static void newRunOnlyIfRight() {
+        PagedMachine m = right(record(6, 64));
+        Tester.due("run", m.run(1), 1);
+        Tester.due("load", Tester.load(m, 1, 2), -1);
+        Tester.due("the place stays", m.register(37), 68);
+        Tester.due("the end stays", m.told(5), 1);
+        Tester.due("the steps stay", m.steps(), 1);
+        Tester.due("no run can be", m.run(1), -1);
+        Tester.due("nor of 0 steps", m.run(0), -1);
+        Tester.due("load", Tester.load(m, START), 0);
+        Tester.due("the place", m.register(37), 0);
+        Tester.due("no end", m.told(5), 0);
+        Tester.due("no steps", m.steps(), 0);
+        Tester.due("a run of 0 steps", m.run(0), 0);
     }
 }

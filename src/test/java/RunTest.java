@@ -266,15 +266,23 @@ public final class RunTest {
         Tester.due("the stack ahead of the address", StackTest.full(" NEG $20,0,1| LDB $15,$20", 5).register(38), 597);
     }
 
-    private static void digest() {
-        PagedMachine m = Tester.ran("S BYTE \"Hello\",0|Main PUSHJ $4,A|A SETL $2,9| MULU $20,$2,$2| TRAP 1"
+    private static PagedMachine toDigest() {
+        return Tester.ran("S BYTE \"Hello\",0|Main PUSHJ $4,A|A SETL $2,9| MULU $20,$2,$2| TRAP 1"
                 + "| SETL $1,#4000| STO $2,$1| TRAP 0", 1);
-        Tester.due("digest", m.digest(), Tester.digestOf(m, 16));
+    }
+
+    private static PagedMachine toDigest(int frames) {
+        PagedMachine m = toDigest();
+        Tester.due("frames", m.frames(frames), frames);
+        return m;
+    }
+
+    private static void digest() {
+        PagedMachine m = toDigest();
         long digest = m.digest();
+        Tester.due("digest", digest, Tester.digestOf(RunTest::toDigest, 16));
         Tester.due("digest leaves all", m.digest(), digest);
-        m.frames(64);
-        Tester.due("digest of 64 frames", m.digest(), Tester.digestOf(m, 64));
-        m.frames(2);
-        Tester.due("digest of 2 frames", m.digest(), Tester.digestOf(m, 2));
+        Tester.due("digest of 64 frames", toDigest(64).digest(), Tester.digestOf(() -> toDigest(64), 64));
+        Tester.due("digest of 2 frames", toDigest(2).digest(), Tester.digestOf(() -> toDigest(2), 2));
     }
 }

@@ -29,7 +29,7 @@ public final class TapeTest {
         for (int f = -1; f <= 64; f++) {
             Tester.due("new: page(" + f + ")", m.page(f), -1);
         }
-        Tester.due("new: digest", m.digest(), Tester.digestOf(m, 16));
+        Tester.due("new: digest", m.digest(), Tester.digestOf(PagedMachine::new, 16));
     }
 
     private static void sixteenFrames() {
@@ -61,6 +61,7 @@ public final class TapeTest {
         Tester.due("feed: the tape was empty", m.feed(0, 0, 0, 0, 0), 20);
     }
 
+    /** A full tape takes more calls than are promised for an object; it must not be overrun then either. */
     private static void feedMost() {
         PagedMachine m = new PagedMachine();
         for (int i = 1; i <= 1000; i++) {

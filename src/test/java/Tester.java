@@ -1,5 +1,11 @@
+import java.util.function.Supplier;
+import java.util.function.ToIntFunction;
+
 /** What the tests share: feeding bytes, comparing answers, ending with the due exit code. */
 final class Tester {
+    /** Of the 512 calls that are promised for an object, those that a test may spend on reading octas. */
+    private static final int OCTAS_OF_ONE = 256;
+
     private static int wrong;
     private static int compared;
 
@@ -92,8 +98,19 @@ final class Tester {
         }
     }
 
-    /** The digest as the document tells it, from the other calls. */
-    static long digestOf(PagedMachine machine, int frames) {
+    /** Lines with | between them; a text without a fault is told by 0 and -1. */
+    static void textFault(int number, int place, String lines) {
+        PagedMachine m = new PagedMachine();
+        int answer = assemble(m, lines.replace('|', '\n'));
+        due("assemble of " + lines, answer, number == 0 ? 0 : -1);
+        due("fault of " + lines, m.fault(0), number);
+        due("place in " + lines, m.fault(1), place);
+        due("loaded by " + lines, m.told(6), number == 0 ? 1 : 0);
+    }
+
+    /** The digest as the document tells it, from the other calls, on machines made alike. */
+    static long digestOf(Supplier<PagedMachine> maker, int frames) {
+        PagedMachine machine = maker.get();
         long d = 7;
         for (int k = 0; k <= 38; k++) {
             d = d * 31 + machine.register(k);
@@ -110,8 +127,33 @@ final class Tester {
             d = d * 31 + machine.page(f);
         }
         for (int octa = 0; octa < 8192; octa++) {
+            machine = octa % OCTAS_OF_ONE == 0 ? maker.get() : machine;
             d = d * 31 + machine.octa(8 * octa);
         }
         return d;
+    }
+
+    /** A call that answers -1 and changes nothing: all that comes later is as on a twin without the call. */
+    static void refused(String what, Supplier<PagedMachine> maker, ToIntFunction<PagedMachine> call) {
+        PagedMachine one = maker.get();
+        PagedMachine other = maker.get();
+        due(what, call.applyAsInt(other), -1);
+        alike(what, one, other);
+    }
+
+    /** Reads all that can be read, goes on with the run, then looks at the tape and what it brings. */
+    static void alike(String what, PagedMachine one, PagedMachine other) {
+        due(what + ", fault(0) behind it", other.fault(0), one.fault(0));
+        due(what + ", fault(1) behind it", other.fault(1), one.fault(1));
+        due(what + ", digest behind it", other.digest(), one.digest());
+        for (int i = 0; i < 20; i++) {
+            due(what + ", run behind it", other.run(1 + i), one.run(1 + i));
+            due(what + ", digest behind a run", other.digest(), one.digest());
+        }
+        int taped = one.feed(1, 2, 3, 4, 5);
+        due(what + ", the tape behind it", other.feed(1, 2, 3, 4, 5), taped);
+        due(what + ", input behind it", other.input(), one.input());
+        due(what + ", run with more input", other.run(20000), one.run(20000));
+        due(what + ", digest at last", other.digest(), one.digest());
     }
 }

@@ -20,14 +20,8 @@ public final class TextFaultTest {
         Tester.finish("TextFaultTest");
     }
 
-    /** Lines with | between them; a text without a fault is told by 0 and -1. */
     private static void fault(int number, int place, String lines) {
-        PagedMachine m = new PagedMachine();
-        int answer = Tester.assemble(m, lines.replace('|', '\n'));
-        Tester.due("assemble of " + lines, answer, number == 0 ? 0 : -1);
-        Tester.due("fault of " + lines, m.fault(0), number);
-        Tester.due("place in " + lines, m.fault(1), place);
-        Tester.due("loaded by " + lines, m.told(6), number == 0 ? 1 : 0);
+        Tester.textFault(number, place, lines);
     }
 
     private static void noOp() {
