@@ -14,8 +14,14 @@ public final class TextFaultTest {
         fits();
         settled();
         laid();
+        laidUpToTheEnd();
+        laidWhenRight();
+        laidWhenNotTooMany();
         manyLabels();
+        labelsAreCountedOnce();
+        neverTold();
         order();
+        firstSeen();
         told();
         Tester.finish("TextFaultTest");
     }
@@ -293,6 +299,61 @@ public final class TextFaultTest {
         fault(3, 11, " LOC 65537,1");
     }
 
+    /** "something is laid beyond 65535 (at the OP ..)". */
+    private static void laidUpToTheEnd() {
+        fault(0, -1, " LOC 65535| BYTE 1");
+        fault(5, 12, " LOC 65536| BYTE 1");
+        fault(0, -1, " LOC 65533| BYTE \"abc\"");
+        fault(5, 12, " LOC 65534| BYTE \"abc\"");
+        fault(5, 13, " LOC 65533|A BYTE \"abc\",1");
+        fault(0, -1, " LOC 65532| TETRA 1");
+        fault(5, 12, " LOC 65532| TETRA 1,2");
+        fault(5, 12, " LOC 65533| TETRA 1");
+        fault(0, -1, " LOC 65528| OCTA 1");
+        fault(0, -1, " LOC 65521| OCTA 1");
+        fault(5, 12, " LOC 65528| OCTA 1,2");
+        fault(5, 12, " LOC 65532| OCTA 1");
+        fault(5, 12, " LOC 65529| OCTA A|A");
+        fault(0, -1, " LOC 65532| SWYM");
+        fault(0, -1, " LOC 65529| SWYM");
+        fault(5, 18, " LOC 65532| SWYM| SWYM");
+        fault(5, 12, " LOC 65533| SWYM");
+        fault(5, 12, " LOC 65536| POP");
+        fault(5, 21, " JMP A| LOC 65536|A  JMP A");
+        fault(0, -1, " JMP A| LOC 65536|A|B IS 1");
+    }
+
+    /** "an e of BYTE, TETRA, OCTA is laid when it has been read, its end seen, and it is right". */
+    private static void laidWhenRight() {
+        fault(1, 18, " LOC 65536| BYTE 1*");
+        fault(3, 17, " LOC 65536| BYTE $1");
+        fault(1, 17, " LOC 65536| BYTE *");
+        fault(1, 16, " LOC 65536| BYTE");
+        fault(2, 17, " LOC 65536| BYTE A");
+        fault(1, 18, " LOC 65536| BYTE \"\"");
+        fault(1, 19, " LOC 65536| BYTE \"a");
+        fault(5, 12, " LOC 65536| BYTE 1,");
+        fault(5, 12, " LOC 65536| BYTE 1,*");
+        fault(5, 12, " LOC 65535| BYTE 1,2,$3");
+        fault(3, 19, " LOC 65535| BYTE 1,$2");
+        fault(5, 12, " LOC 65528| OCTA 1,A,*");
+    }
+
+    /** "an instruction, and LOC, when there is not one OPERAND too many". */
+    private static void laidWhenNotTooMany() {
+        fault(4, 22, " LOC 65536| ADD $1,$2,256");
+        fault(3, 16, " LOC 65536| ADD 1,$2");
+        fault(3, 18, " LOC 65536| ADD $1");
+        fault(3, 25, " LOC 65536| ADD $1,$2,$3,");
+        fault(5, 12, " LOC 65536| ADD $1,$2,$3 ,");
+        fault(3, 18, " LOC 65536| JMP @,1");
+        fault(3, 17, " LOC 65536| SWYM 1");
+        fault(3, 11, " LOC 65537,");
+        fault(1, 10, " LOC 65537*");
+        fault(5, 1, " LOC 65537 ,");
+        fault(2, 11, " LOC 65537-A");
+    }
+
     private static void manyLabels() {
         StringBuilder text = new StringBuilder();
         for (int i = 100; i < 400; i++) {
@@ -310,12 +371,70 @@ public final class TextFaultTest {
         fault(2, 1500, most + "L100");
     }
 
+    /** "more than 300 LABELS (at it: told, or used ahead ..)"; a LABEL that is used and told is one. */
+    private static void labelsAreCountedOnce() {
+        StringBuilder uses = new StringBuilder();
+        StringBuilder tells = new StringBuilder();
+        for (int i = 100; i < 400; i++) {
+            uses.append(" OCTA L").append(i).append('|');
+            tells.append('L').append(i).append('|');
+        }
+        int length = uses.length();
+        fault(0, -1, uses + "" + tells);
+        fault(0, -1, uses + "" + uses + tells);
+        fault(6, length + 6, uses + " OCTA M|" + tells);
+        fault(6, length + 8, uses + " OCTA 1,M|" + tells);
+        fault(6, length + 7, uses + " BZ $1,M|" + tells);
+        fault(6, length, uses + "M|" + tells);
+        fault(2, length + 6, uses + " BYTE M|" + tells);
+        fault(2, length + 6, uses + " OCTA M+1|" + tells);
+        fault(6, length + tells.length(), uses + "" + tells + "M IS $1");
+        fault(2, length + tells.length(), uses + "" + tells + "L399");
+        fault(1, length, uses + "abcdefghijklm");
+    }
+
+    /** "At the end: 2 for the first use of a LABEL that was never told." */
+    private static void neverTold() {
+        fault(2, 5, " JMP A");
+        fault(2, 5, " JMP A|");
+        fault(2, 5, " JMP A|B|a");
+        fault(2, 5, " JMP A| JMP B| JMP A|B");
+        fault(2, 12, " JMP A| JMP B| JMP B|A");
+        fault(2, 6, " OCTA A,B| JMP C");
+        fault(2, 8, " OCTA A,B| JMP C|A");
+        fault(2, 15, " OCTA A,B| JMP C|B|A");
+        fault(0, -1, " OCTA A,B| JMP C|B|A|C");
+        fault(1, 8, " JMP A| FOO");
+    }
+
     private static void order() {
         fault(1, 1, " FOO|X|X");
         fault(2, 2, "X|X| FOO");
         fault(4, 9, " SETL $1,65536,*");
         fault(3, 8, " ADD $1,2,*");
         fault(1, 9, " OCTA 1,2x");
+    }
+
+    /** "the first that is seen, as it is read byte by byte": each line has two faults. */
+    private static void firstSeen() {
+        fault(2, 2, "X|X FOO");
+        fault(2, 5, "A IS Z+*");
+        fault(1, 7, "A IS 1+*,2");
+        fault(3, 14, "A IS $2| OCTA A,*");
+        fault(1, 15, "A IS $2| OCTA A*,");
+        fault(4, 8, " NEG $1,256,$32");
+        fault(1, 11, " NEG $1,256$");
+        fault(3, 5, " ADD 1,$32");
+        fault(1, 5, " ADD $32,1");
+        fault(4, 6, " TRAP 256,1");
+        fault(3, 9, " TRAP 1,2|X|X");
+        fault(4, 5, " POP 256,65536,1");
+        fault(4, 5, " JMP A| LOC 2|A BYTE *");
+        fault(1, 16, " JMP A| LOC 2|A FOO");
+        fault(4, 5, " JMP A| LOC 2|A| FOO");
+        fault(3, 5, " JMP A|A IS $1| FOO");
+        fault(5, 8, " JMP A| LOC 65537|A IS $1");
+        fault(2, 16, " JMP A| LOC 2|B|B|A");
     }
 
     /** The fault is that of the latest call. */
