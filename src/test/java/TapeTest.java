@@ -8,6 +8,9 @@ public final class TapeTest {
         end();
         input();
         inputMost();
+        endKeepsTheFirst();
+        inputComesInOrder();
+        inputOutlivesRuns();
         Tester.finish("TapeTest");
     }
 
@@ -123,5 +126,69 @@ public final class TapeTest {
         Tester.due("one more is not", m.input(), -1);
         Tester.due("nothing was done", m.told(7), 4000);
         Tester.due("the tape stays", m.feed(0, 0, 0, 0, 0), 21);
+    }
+
+    /** Puts the whole INPUT, as it comes, to #1000 and behind. */
+    private static final String READS_ALL = " SETL $16,#1000\nLoop SETL $30,#2000\n LDA $31,$16\n TRAP 2\n"
+            + " BN $31,Done\n ADD $16,$16,$31\n JMP Loop\nDone TRAP 0\n";
+
+    /** "The TAPE keeps its first n bytes", and what is fed then comes behind them. */
+    private static void endKeepsTheFirst() {
+        PagedMachine m = new PagedMachine();
+        Tester.assemble(m, READS_ALL);
+        m.feed(0x01020304, 0x05060708, 0x09FF0B0C, 0x0D0E0F10, 0x11121314);
+        Tester.due("end(9)", m.end(9), 9);
+        m.feed(0x80818283, 0x84858687, 0x88898B8C, -1, Integer.MIN_VALUE);
+        Tester.due("end(28)", m.end(28), 28);
+        Tester.due("input", m.input(), 28);
+        Tester.due("run", m.run(20000), 1);
+        Tester.due("the first bytes", m.octa(0x1000), 0x0102030405060708L);
+        Tester.due("the ninth, and what came behind it", m.octa(0x1008), 0x0980818283848586L);
+        Tester.due("and on", m.octa(0x1010), 0x8788898B8CFFFFFFL);
+        Tester.due("up to the 28th", m.octa(0x1018), 0xFF80000000000000L);
+    }
+
+    /** "comes behind the INPUT", also when a part of it is gone and the rest fills all 4000. */
+    private static void inputComesInOrder() {
+        PagedMachine m = new PagedMachine();
+        Tester.assemble(m, READS_ALL);
+        Tester.due("input", inputOf(m, 0, 2000), 2000);
+        Tester.due("a line of ten", m.run(4), 0);
+        Tester.due("the others are left", m.told(7), 1990);
+        Tester.due("input", inputOf(m, 2000, 2010), 4000);
+        Tester.due("a line of 251", m.run(6), 0);
+        Tester.due("input", inputOf(m, 4010, 251), 4000);
+        Tester.due("run", m.run(20000), 1);
+        for (int i = 0; i + 8 < 4261; i += 40) {
+            Tester.due("byte " + i, m.octa(0x1000 + i) >>> 56, 1 + i % 251 & 255);
+            Tester.due("byte " + (i + 7), m.octa(0x1000 + i) & 255, 1 + (i + 7) % 251 & 255);
+        }
+        Tester.due("nothing behind", m.octa(0x1000 + 4264), 0);
+    }
+
+    /** Bytes of a row without 0; a 10 in it ends a line, as any byte may. */
+    private static int inputOf(PagedMachine m, int from, int count) {
+        byte[] bytes = new byte[count];
+        for (int i = 0; i < count; i++) {
+            bytes[i] = (byte) (1 + (from + i) % 251);
+        }
+        Tester.tape(m, bytes);
+        return m.input();
+    }
+
+    /** "(the INPUT stays)", and "bytes of the INPUT that are left" are those that were not taken. */
+    private static void inputOutlivesRuns() {
+        PagedMachine m = new PagedMachine();
+        Tester.due("input ahead of any run", Tester.input(m, "ab\ncd\nef"), 8);
+        String reads = " SETL $30,9\n SETL $31,#1000\n TRAP 2\n TRAP 0\n";
+        long[] lines = {0x61620A0000000000L, 0x63640A0000000000L, 0x6566000000000000L, 0};
+        int[] left = {5, 2, 0, 0};
+        for (int i = 0; i < 4; i++) {
+            Tester.due("assemble", Tester.assemble(m, reads), 0);
+            Tester.due("run", m.run(9), 1);
+            Tester.due("line " + i, m.octa(0x1000), lines[i]);
+            Tester.due("left behind line " + i, m.told(7), left[i]);
+            Tester.due("$31", m.register(31), i < 2 ? 3 : i == 2 ? 2 : -1);
+        }
     }
 }
