@@ -169,8 +169,9 @@ public final class MachineEdgeTest {
     private static void divides() {
         long[][] dues = {
             {7, 2, 3, 1}, {-7, 2, -4, 1}, {7, -2, -4, -1}, {-7, -2, 3, -1}, {6, 3, 2, 0}, {-6, 3, -2, 0}, {1, 2, 0, 1},
-            {-1, 2, -1, 1}, {1, -2, -1, -1}, {0, 5, 0, 0}, {5, 0, 0, 5}, {-5, 0, 0, -5}, {0, 0, 0, 0}, {MIN, -1, MIN, 0},
-            {MIN, 0, 0, MIN}, {MIN, 1, MIN, 0}, {MAX, -1, -MAX, 0}, {MIN, MAX, -2, MAX - 1}, {MAX, MIN, -1, -1},
+            {-1, 2, -1, 1}, {1, -2, -1, -1}, {0, 5, 0, 0}, {5, 0, 0, 5}, {-5, 0, 0, -5}, {0, 0, 0, 0},
+            {MIN, -1, MIN, 0}, {MIN, 0, 0, MIN}, {MIN, 1, MIN, 0}, {MAX, -1, -MAX, 0}, {MIN, MAX, -2, MAX - 1},
+            {MAX, MIN, -1, -1},
             {MIN, MIN, 1, 0}
         };
         for (long[] due : dues) {
@@ -401,8 +402,8 @@ public final class MachineEdgeTest {
 
     /** Puts 125 texts of eight bytes OUT, then one of so many more. */
     private static PagedMachine puts(int more, int end) {
-        return Tester.ran("S BYTE \"abcdefgh\",0|T BYTE \"12345678\",0|Main SETL $1,125|A SETL $31,S| TRAP 1| SUB $1,$1,1"
-                + "| BP $1,A| SETL $31,T+" + (8 - more) + "| TRAP 1| TRAP 0", end);
+        return Tester.ran("S BYTE \"abcdefgh\",0|T BYTE \"12345678\",0|Main SETL $1,125|A SETL $31,S| TRAP 1"
+                + "| SUB $1,$1,1| BP $1,A| SETL $31,T+" + (8 - more) + "| TRAP 1| TRAP 0", end);
     }
 
     /** "7 more than 1000 bytes are OUT." */

@@ -16,6 +16,22 @@ public final class PageTest {
         cacheLosesPage();
         touchedByEach();
         notTouched();
+        pageEdges();
+        touchesOfNumbers();
+        lowestFreeFrame();
+        fullAndOneMore();
+        handGoesRound();
+        handStopsAtUntouched();
+        arrivalIsATouch();
+        writesSinceItCame();
+        readsFromDisk();
+        trapsReadAndWrite();
+        orderOfTouches();
+        endsTouch();
+        cacheOfFour();
+        cacheIsFirstInFirstOut();
+        cacheKeepsPlaceOfLost();
+        freshAgain();
         for (int frames = 2; frames <= 64; frames += frames < 9 ? 1 : 11) {
             for (int seed = 1; seed <= 12; seed++) {
                 againstModel(frames, seed);
@@ -171,6 +187,308 @@ public final class PageTest {
         m.digest();
         m.run(0);
         Tester.due("octa, digest and run(0) touch nothing", m.told(0), 0);
+    }
+
+    private static PagedMachine machine(int frames, String lines) {
+        PagedMachine m = new PagedMachine();
+        Tester.due("frames", m.frames(frames), frames);
+        Tester.due("assemble of " + lines, Tester.assemble(m, lines.replace('|', '\n')), 0);
+        return m;
+    }
+
+    private static void pages(String what, PagedMachine m, int... pages) {
+        for (int f = 0; f < pages.length; f++) {
+            Tester.due("page(" + f + ") " + what, m.page(f), pages[f]);
+        }
+        Tester.due("no frame behind, " + what, m.page(pages.length), -1);
+    }
+
+    private static void counts(String what, PagedMachine m, int... counts) {
+        for (int i = 0; i < counts.length; i++) {
+            Tester.due("told(" + i + ") " + what, m.told(i), counts[i]);
+        }
+    }
+
+    /** "PAGE p is the bytes 64 p to 64 p + 63." */
+    private static void pageEdges() {
+        int[] addresses = {0, 63, 64, 127, 128, 4095, 4096, 65471, 65472, 65535};
+        for (int address : addresses) {
+            PagedMachine m = Tester.ran(" LOC #8000|Main SETL $1," + address + "| LDB $2,$1| TRAP 0", 1);
+            Tester.due("the page of " + address, m.page(1), address / 64);
+            m = Tester.ran(" LOC #8000|Main SETL $1," + address + "| STB $2,$1| TRAP 0", 1);
+            Tester.due("the page of " + address, m.page(1), address / 64);
+            m = Tester.ran(" LOC #8000|Main SETL $31," + address + "| TRAP 1| TRAP 0", 1);
+            Tester.due("the page of " + address, m.page(1), address / 64);
+        }
+        PagedMachine m = Tester.assembled(" LOC 60|Main SWYM| SWYM");
+        Tester.due("run", m.run(1), 0);
+        pages("of an INSTRUCTION at 60", m, 0);
+        Tester.due("run", m.run(1), 0);
+        pages("of an INSTRUCTION at 64", m, 0, 1);
+    }
+
+    /** "by each byte, or number, that it reads or writes": a number is in one page, where it lies. */
+    private static void touchesOfNumbers() {
+        String[] names = {"LDT", "LDO", "STT", "STO"};
+        for (String name : names) {
+            PagedMachine m = Tester.ran(" LOC #8000|Main SETL $1,127| " + name + " $2,$1| TRAP 0", 1);
+            pages(name + " at 127", m, 512, 1, -1);
+            Tester.due(name + " at 127: misses", m.told(3), 2);
+            m = Tester.ran(" LOC #8000|Main SETL $1,128| " + name + " $2,$1| TRAP 0", 1);
+            pages(name + " at 128", m, 512, 2, -1);
+        }
+    }
+
+    /** "it comes to the lowest free FRAME". */
+    private static void lowestFreeFrame() {
+        PagedMachine m = machine(5, " LDB $2,$1,192| LDB $2,$1,64| LDB $2,$1,128| TRAP 0");
+        pages("at first", m, -1, -1, -1, -1, -1);
+        m.run(1);
+        pages("behind two", m, 0, 3, -1, -1, -1);
+        m.run(1);
+        pages("behind three", m, 0, 3, 1, -1, -1);
+        m.run(2);
+        pages("behind four", m, 0, 3, 1, 2, -1);
+        counts("behind four", m, 4, 1, 0, 4, 0);
+    }
+
+    /** Code in page 512, and a byte of each of so many pages from page 0 on. */
+    private static PagedMachine sweep(int frames, int pages, String op) {
+        PagedMachine m = machine(frames, " LOC #8000|Main SETL $1," + pages + "|A " + op + " $2,$3| INCL $3,64"
+                + "| SUB $1,$1,1| BP $1,A| TRAP 0");
+        Tester.due("run", m.run(20000), 1);
+        return m;
+    }
+
+    /** F FRAMES hold F PAGES; one more PAGE sends one to the disk. */
+    private static void fullAndOneMore() {
+        int[] all = {2, 3, 4, 5, 16, 63, 64};
+        for (int f : all) {
+            PagedMachine m = sweep(f, f - 1, "STB");
+            counts("of " + f + " frames, full", m, f, 1, 0);
+            Tester.due("the hand of " + f + " frames, full", m.told(4), 0);
+            Tester.due("the last frame of " + f, m.page(f - 1), f - 2);
+            Tester.due("no frame behind " + f, m.page(f), -1);
+            m = sweep(f, f, "STB");
+            Tester.due("one more than " + f + ": faults", m.told(0) - m.told(1), f);
+            Tester.due("one more than " + f + ": the code left first, unwritten", m.told(1), 2);
+            Tester.due("one more than " + f + ": frame 0", m.page(0), f - 1);
+            Tester.due("one more than " + f + ": then page 0, written", m.told(2), 1);
+            Tester.due("one more than " + f + ": frame 1", m.page(1), 512);
+            Tester.due("one more than " + f + ": the hand", m.told(4), 2 % f);
+        }
+    }
+
+    /** All were TOUCHED: the hand goes round to where it stood; "behind the last one the first one". */
+    private static void handGoesRound() {
+        PagedMachine m = machine(3, " LDB $2,$1,64| LDB $2,$1,128| LDB $2,$1,192| LDB $2,$1,255| TRAP 0| LOC 64"
+                + "| BYTE 1");
+        m.run(2);
+        pages("full", m, 0, 1, 2);
+        Tester.due("the hand stands", m.told(4), 0);
+        m.run(1);
+        pages("the code left for page 3", m, 3, 1, 2);
+        Tester.due("the hand went on by one", m.told(4), 1);
+        m.run(1);
+        pages("the code came for page 1, which was not touched since", m, 3, 0, 2);
+        Tester.due("the hand went on by one", m.told(4), 2);
+        counts("then", m, 5, 3, 0, 5);
+        Tester.due("run", m.run(1), 1);
+        Tester.due("the hand stands", m.told(4), 2);
+        m = machine(2, " LDB $2,$1,64| LDB $2,$1,128| TRAP 0");
+        m.run(2);
+        pages("two frames", m, 2, 1);
+        m.run(1);
+        pages("the code behind it", m, 2, 0);
+        Tester.due("behind the last one the first one", m.told(4), 0);
+    }
+
+    /** "while the FRAME under the hand was TOUCHED since the hand was there .. the hand goes to the next one". */
+    private static void handStopsAtUntouched() {
+        String lines = " LDB $2,$1,64| LDB $2,$1,128| LDB $2,$1,192| LDB $2,$4| LDB $2,$5| LDB $2,$6| TRAP 0";
+        String head = " LOC #8000|Main SETL $4,256| SETL $5,320| SETL $6,128|";
+        PagedMachine m = machine(4, head + lines);
+        m.run(6);
+        pages("full", m, 512, 1, 2, 3);
+        m.run(1);
+        pages("page 4 for the code", m, 4, 1, 2, 3);
+        Tester.due("the hand", m.told(4), 1);
+        m.run(1);
+        pages("the code for page 1, then page 5 for page 2", m, 4, 512, 5, 3);
+        Tester.due("the hand", m.told(4), 3);
+        m.run(1);
+        pages("page 2 for page 3", m, 4, 512, 5, 2);
+        Tester.due("the hand", m.told(4), 0);
+        counts("then", m, 8, 3, 0, 8);
+    }
+
+    /** "(or since its PAGE came)": a page that came by a touch was touched, so the hand passes it once. */
+    private static void arrivalIsATouch() {
+        PagedMachine m = machine(3, " LOC #8000|Main LDB $2,$1,64| LDB $2,$1,128| LDB $2,$1,192| TRAP 0");
+        m.run(2);
+        pages("full", m, 512, 1, 2);
+        m.run(1);
+        pages("pages 1 and 2 were passed though they were touched once", m, 3, 1, 2);
+        Tester.due("the hand", m.told(4), 1);
+    }
+
+    /** "which is a WRITE if it was written to since it came". */
+    private static void writesSinceItCame() {
+        String head = " LOC #8000|Main SETL $4,64| SETL $5,128|A STB $4,$4| LDB $2,$5| LDB $2,$4| LDB $2,$5";
+        PagedMachine m = machine(2, head + "| LDB $2,$4| LDB $2,$5| TRAP 0| LOC 64| BYTE 9");
+        m.run(3);
+        counts("page 1 came and was written", m, 2, 2, 0);
+        m.run(1);
+        counts("page 2 for the code", m, 3, 2, 0);
+        m.run(1);
+        counts("page 1 was sent for the code, a WRITE; then it comes for page 2", m, 5, 4, 1);
+        m.run(4);
+        Tester.due("it was not written again: no WRITE", m.told(2), 1);
+        Tester.due("though it came and left", m.told(0) > 6 ? 1 : 0, 1);
+        Tester.due("what was written is there", m.octa(64), 0x4000000000000000L);
+    }
+
+    /** "A PAGE that was on the disk comes from there, which is a READ"; "or were never TOUCHED". */
+    private static void readsFromDisk() {
+        PagedMachine m = Tester.ran(" LDB $2,$1,64| LDB $2,$1,128| TRAP 0| LOC 64| BYTE 0", 1);
+        counts("page 2 was never touched", m, 3, 2, 0, 3);
+        m = Tester.ran(" STB $2,$1,64| STB $2,$1,128| TRAP 0| LOC 64| BYTE 0", 1);
+        counts("nor for a store", m, 3, 2, 0, 3);
+        m = sweep(2, 1, "LDB");
+        counts("the code alone was on the disk", m, 2, 1, 0, 2);
+        m = machine(2, " LOC #8000|Main LDB $2,$1,64| LDB $2,$1,128| LDB $2,$1,64| TRAP 0");
+        m.run(2);
+        counts("three came, one from the disk", m, 3, 1, 0);
+        m.run(1);
+        counts("the code came again, then page 1, unwritten, from the disk", m, 5, 3, 0);
+    }
+
+    /** TRAP 1 reads, which is no writing; TRAP 2 writes, each byte and the 0. */
+    private static void trapsReadAndWrite() {
+        String tail = "| LDB $2,$4| LDB $2,$5| LDB $2,$6| TRAP 0| LOC 64| BYTE \"abc\",0";
+        PagedMachine m = machine(2, " LOC #8000|Main SETL $5,256| SETL $6,512| SETL $31,64| TRAP 1" + tail);
+        Tester.due("run", m.run(99), 1);
+        Tester.due("TRAP 1: outs", m.outs(), 3);
+        Tester.due("TRAP 1: no WRITE", m.told(2), 0);
+        m = machine(2, " LOC #8000|Main SETL $5,256| SETL $6,512| SETL $30,9| SETL $31,64| TRAP 2" + tail);
+        Tester.input(m, "xy\n");
+        Tester.due("run", m.run(99), 1);
+        Tester.due("TRAP 2: a WRITE", m.told(2), 1);
+        m = machine(2, " LOC #8000|Main SETL $5,256| SETL $6,512| SETL $30,1| SETL $31,64| TRAP 2" + tail);
+        Tester.input(m, "xy\n");
+        Tester.due("run", m.run(99), 1);
+        Tester.due("TRAP 2, the 0 alone: a WRITE", m.told(2), 1);
+        m = machine(2, " LOC #8000|Main SETL $5,256| SETL $6,512| SETL $30,9| SETL $31,64| TRAP 2" + tail);
+        Tester.due("run", m.run(99), 1);
+        Tester.due("TRAP 2 without INPUT: no WRITE", m.told(2), 0);
+        m = machine(4, " LOC #8000|Main SETL $31,126| TRAP 1| TRAP 0| LOC 126| BYTE 65,66,67,0");
+        Tester.due("run", m.run(99), 1);
+        pages("TRAP 1 over two pages", m, 512, 1, 2, -1);
+        m = machine(4, " LOC #8000|Main SETL $30,9| SETL $31,126| TRAP 2| TRAP 0");
+        Tester.input(m, "a\n");
+        Tester.due("run", m.run(99), 1);
+        pages("TRAP 2, whose 0 alone is in the second page", m, 512, 1, 2, -1);
+        m = machine(4, " LOC #8000|Main SETL $31,126| TRAP 1| TRAP 0| LOC 126| BYTE 65,0");
+        Tester.due("run", m.run(99), 1);
+        pages("TRAP 1, whose 0 is the last of a page", m, 512, 1, -1, -1);
+        m = machine(4, " LOC #8000|Main SETL $31,127| TRAP 1| TRAP 0| LOC 127| BYTE 65");
+        Tester.due("run", m.run(99), 1);
+        pages("TRAP 1, whose 0 was never laid", m, 512, 1, 2, -1);
+        counts("TRAP 1, whose 0 was never laid", m, 3, 2, 0, 3);
+    }
+
+    /** "by an INSTRUCTION that lies in it, when it comes to it, then by each byte, or number .. in order". */
+    private static void orderOfTouches() {
+        PagedMachine m = machine(2, " LOC 60|Main SETL $1,200| LDB $2,$1| TRAP 0");
+        m.run(1);
+        pages("the first", m, 0, -1);
+        m.run(1);
+        pages("the INSTRUCTION at 64 came ahead of its byte", m, 3, 1);
+        m = machine(2, " LOC #8000|Main SETL $31,126| TRAP 1| TRAP 0| LOC 126| BYTE 1,1,1,0");
+        m.run(2);
+        pages("page 2 took the frame of the code", m, 2, 1);
+        Tester.due("$31", m.register(31), 126);
+    }
+
+    /** "does nothing (but TOUCH)": its own page; no address that is none, and not that of a jump. */
+    private static void endsTouch() {
+        PagedMachine m = Tester.ran(" LOC #8000|Main SETML $1,1| LDB $2,$1", 4);
+        counts("a byte beyond 65535", m, 1, 1, 0, 1);
+        m = Tester.ran(" LOC #803C|Main SETML $1,1| LDB $2,$1", 4);
+        counts("the INSTRUCTION in the next page", m, 2, 2, 0, 2);
+        m = Tester.ran(" LOC #803C|Main SETML $1,1| TETRA #FF000000", 3);
+        counts("an op that is none in the next page", m, 2, 2, 0, 2);
+        m = Tester.ran(" LOC #8000|Main JMP 0-4", 4);
+        counts("a PLACE below 0", m, 1, 1, 0, 1);
+        m = Tester.assembled(" LOC #8000|Main JMP 0");
+        m.run(1);
+        counts("a jump alone", m, 1, 1, 0, 1);
+        m = Tester.ran(" LOC #8000|Main NEG $20,0,1| STO $20,$20| TRAP 0", 4);
+        counts("a store below 0", m, 1, 1, 0, 1);
+    }
+
+    /** "A CACHE knows the FRAMES of four PAGES". */
+    private static void cacheOfFour() {
+        String loads = " LDB $2,$1,64| LDB $2,$1,128| LDB $2,$1,192|";
+        PagedMachine m = Tester.ran(" LOC #8000|Main SWYM|" + loads + loads + loads + " TRAP 0", 1);
+        counts("four pages, three times", m, 4, 1, 0, 4);
+        m = Tester.ran(" LOC #8000|Main SETL $4,256|" + loads + " LDB $2,$4| TRAP 0", 1);
+        counts("a fifth page, then the code, which came in first", m, 5, 1, 0, 6);
+    }
+
+    /** "it comes in, instead of the one that came in first", however late that was TOUCHED. */
+    private static void cacheIsFirstInFirstOut() {
+        PagedMachine m = Tester.assembled(" LOC #8000|Main SETL $4,256| LDB $2,$1,64| LDB $2,$1,128| LDB $2,$1,192"
+                + "| LDB $2,$1,64| LDB $2,$4| LDB $2,$1,128| LDB $2,$1,64| TRAP 0");
+        m.run(5);
+        Tester.due("four are known", m.told(3), 4);
+        m.run(1);
+        Tester.due("page 4 for the code", m.told(3), 5);
+        m.run(1);
+        Tester.due("the code for page 1; page 2 is known", m.told(3), 6);
+        m.run(1);
+        Tester.due("page 1 for page 2, though page 1 was touched later", m.told(3), 7);
+        m.run(1);
+        Tester.due("the code is known", m.told(3), 7);
+        Tester.due("faults", m.told(0), 5);
+    }
+
+    /** "a PAGE that leaves its FRAME leaves the CACHE", so that there is room for another. */
+    private static void cacheKeepsPlaceOfLost() {
+        PagedMachine m = machine(3, " LOC #8000|Main LDB $2,$1,64| LDB $2,$1,128| LDB $2,$1,192| LDB $2,$1,128"
+                + "| TRAP 0");
+        m.run(2);
+        counts("three are known", m, 3, 1, 0, 3);
+        m.run(1);
+        pages("page 3 for the code", m, 3, 1, 2);
+        Tester.due("a miss", m.told(3), 4);
+        m.run(1);
+        pages("the code for page 1", m, 3, 512, 2);
+        Tester.due("one miss: page 2 is known still", m.told(3), 5);
+        m.run(1);
+        Tester.due("the code is known", m.told(3), 5);
+    }
+
+    /** Of a text taken on the same machine nothing is in a frame, known or under the hand. */
+    private static void freshAgain() {
+        for (int frames = 2; frames <= 5; frames++) {
+            String lines = " LOC #8000|Main STB $1,$1,64| STB $1,$1,128| LDB $2,$1,192| LDB $2,$1,255| LDB $2,$1,64"
+                    + "| TRAP 0";
+            PagedMachine once = machine(frames, lines);
+            Tester.due("run", once.run(99), 1);
+            PagedMachine again = machine(frames, " LOC 0|Main STB $1,$1,255| STB $1,$1,128| STB $1,$1,64| TRAP 0");
+            Tester.due("run", again.run(99), 1);
+            Tester.due("assemble", Tester.assemble(again, lines.replace('|', '\n')), 0);
+            counts("behind assemble", again, 0, 0, 0, 0, 0);
+            Tester.due("run", again.run(99), 1);
+            for (int what = 0; what <= 7; what++) {
+                Tester.due("told(" + what + ") of the second text", again.told(what), once.told(what));
+            }
+            for (int f = 0; f < frames; f++) {
+                Tester.due("page(" + f + ") of the second text", again.page(f), once.page(f));
+            }
+            Tester.due("digest of the second text", again.digest(), once.digest());
+        }
     }
 
     /** Loads and stores all over the memory, each step against a model of lists. */

@@ -1,3 +1,7 @@
+import java.util.ArrayList;
+import java.util.List;
+import java.util.Random;
+
 /** Promise 11 (register): LOCAL, MARGINAL and GLOBAL registers, PUSHJ, POP and the stack's limit. */
 public final class StackTest {
     public static void main(String[] args) {
@@ -13,6 +17,17 @@ public final class StackTest {
         limitOfWrites();
         limitOfPushes();
         wrongNumbers();
+        writesOfMarginal();
+        readsOfMarginal();
+        lastLocal();
+        limitOfEachOp();
+        limitOfEachPush();
+        pushesStale();
+        pushesEach();
+        popsEach();
+        for (int seed = 1; seed <= 150; seed++) {
+            againstModel(seed);
+        }
         Tester.finish("StackTest");
     }
 
@@ -220,5 +235,218 @@ public final class StackTest {
         Tester.due("register(MAX)", m.register(Integer.MAX_VALUE), 0);
         Tester.due("register(31)", m.register(31), 5);
         Tester.due("register(38)", m.register(38), 2);
+    }
+
+    /** Sixteen registers that hold 1, 2, .., then rL becomes n, so that old numbers lie behind it. */
+    private static String stale(int n) {
+        return some(16) + " SETL $20," + n + "| PUT 4,$20|";
+    }
+
+    /** "when MARGINAL $k is written, rL becomes k + 1, and those below that were MARGINAL are 0". */
+    private static void writesOfMarginal() {
+        for (int n = 0; n <= 16; n++) {
+            for (int k = 0; k < 16; k++) {
+                PagedMachine m = Tester.ran(stale(n) + " SETL $" + k + ",99| TRAP 0", 1);
+                long[] due = new long[Math.max(n, k + 1)];
+                for (int i = 0; i < due.length; i++) {
+                    due[i] = i == k ? 99 : i < n ? i + 1 : 0;
+                }
+                registers("behind a write of $" + k + " with rL " + n, m, due);
+            }
+        }
+    }
+
+    /** "the rest MARGINAL: they read as 0", and reading leaves rL. */
+    private static void readsOfMarginal() {
+        for (int n = 0; n <= 16; n++) {
+            PagedMachine m = Tester.ran(stale(n) + " LDA $21,$0| LDA $22,$15| ADD $23,$7,$8| STB $15,$24,255| BZ $9,@+4"
+                    + "| TRAP 0", 1);
+            Tester.due("$0 with rL " + n, m.register(21), n > 0 ? 1 : 0);
+            Tester.due("$15 with rL " + n, m.register(22), n > 15 ? 16 : 0);
+            Tester.due("$7 and $8 with rL " + n, m.register(23), (n > 7 ? 8 : 0) + (n > 8 ? 9 : 0));
+            Tester.due("rL " + n, m.register(36), n);
+        }
+    }
+
+    /** "from $16 on GLOBAL": $15 is the last that can be LOCAL. */
+    private static void lastLocal() {
+        PagedMachine m = Tester.ran(" SETL $16,5| SETL $31,6| TRAP 0", 1);
+        Tester.due("rL behind writes of GLOBAL ones", m.register(36), 0);
+        Tester.due("$16", m.register(16), 5);
+        Tester.due("$31", m.register(31), 6);
+        m = Tester.ran(" SETL $15,5| TRAP 0", 1);
+        Tester.due("rL behind a write of $15", m.register(36), 16);
+        m = Tester.ran(" SETL $16,5| PUSHJ $0,A|A PUT 4,$20| TRAP 0", 1);
+        Tester.due("$16 stays", m.register(16), 5);
+    }
+
+    /** "600 with the LOCAL ones are its most: END 5, if an instruction would make them more (it is not done)". */
+    private static void limitOfEachOp() {
+        for (int op = 2; op <= 78; op++) {
+            boolean stores = op >= 44 && op < 50;
+            boolean writes = op <= 33 || op >= 36 && op <= 53 && !stores || op >= 69;
+            if (!writes) {
+                continue;
+            }
+            long word = (long) op << 24 | 0x001010L;
+            word = op == 78 ? (long) op << 24 | 3 : word;
+            PagedMachine m = full(" TETRA " + (word | 0x020000), 0, 599);
+            Tester.due("rL behind op " + op, m.register(36), 3);
+            m = full(" TETRA " + (word | 0x030000), 5, 599);
+            Tester.due("rL behind op " + op + " that is not done", m.register(36), 0);
+            Tester.due("steps of op " + op, m.steps(), 598);
+            full(" TETRA " + (word | 0x0F0000), 5, 599);
+            full(" TETRA " + (word | 0x100000), 0, 599);
+        }
+    }
+
+    /** Up to the step of that number, of which only the last may end the run. */
+    private static PagedMachine full(String lines, int end, int steps) {
+        PagedMachine m = Tester.assembled("Main SETL $16,199|A SUB $16,$16,1| PUSHJ $2,B|B BP $16,A|" + lines);
+        Tester.due("run up to" + lines, m.run(steps - 1), 0);
+        Tester.due("run of" + lines, m.run(1), end);
+        return m;
+    }
+
+    /** 597 numbers and n LOCAL ones: what a PUSHJ of each X makes of them. */
+    private static void limitOfEachPush() {
+        for (int n = 0; n <= 3; n++) {
+            for (int x = 0; x <= 17; x++) {
+                int away = x >= 16 ? n : x;
+                int left = Math.max(0, n - away - 1);
+                boolean most = 597 + away + 1 + left > 600;
+                String lines = some(n) + " TETRA " + (0x43000001L | x << 16);
+                PagedMachine m = full(lines, most ? 5 : 0, 599 + n);
+                Tester.due("depth behind PUSHJ " + x + " with rL " + n, m.register(38), most ? 597 : 597 + away + 1);
+                Tester.due("rL behind PUSHJ " + x + " with rL " + n, m.register(36), most ? n : left);
+                Tester.due("steps behind PUSHJ " + x + " with rL " + n, m.steps(), 598 + n + (most ? 0 : 1));
+            }
+        }
+    }
+
+    /** "else, if it is MARGINAL, $X is written 0 first": those below it are 0, not what they were once. */
+    private static void pushesStale() {
+        for (int n = 0; n <= 16; n++) {
+            for (int x = 0; x <= 17; x++) {
+                String lines = stale(n) + " TETRA " + (0x43000002L | x << 16) + "| TRAP 0| POP 1";
+                PagedMachine m = Tester.ran(lines, 1);
+                int away = x >= 16 ? n : x;
+                long[] due = new long[Math.min(16, away + 1)];
+                for (int i = 0; i < due.length; i++) {
+                    due[i] = i < away && i < n ? i + 1 : 0;
+                }
+                if (n > away + 1) {
+                    due[away] = away + 2;
+                }
+                registers("behind PUSHJ " + x + " and POP 1 with rL " + n, m, due);
+            }
+        }
+    }
+
+    /** "$0 to $(X - 1), then the number X go on THE STACK; the LOCAL ones above $X are $0, $1, .. now". */
+    private static void pushesEach() {
+        for (int n = 0; n <= 16; n++) {
+            for (int x = 0; x < 256; x += x < 20 ? 1 : x == 20 ? 11 : x == 31 ? 1 : 223) {
+                PagedMachine m = Tester.ran(some(n) + " TETRA " + (0x43000001L | x << 16) + "| TRAP 0", 1);
+                int away = x >= 16 ? n : x;
+                long[] due = new long[Math.max(0, n - away - 1)];
+                for (int i = 0; i < due.length; i++) {
+                    due[i] = away + 2 + i;
+                }
+                registers("behind PUSHJ " + x + " with rL " + n, m, due);
+                Tester.due("depth behind PUSHJ " + x + " with rL " + n, m.register(38), away + 1);
+                Tester.due("rJ behind PUSHJ " + x + " with rL " + n, m.register(35), 4 * n + 4);
+            }
+        }
+    }
+
+    /** "X = 0: none stays. X up to rL: .. X above rL: .. (What would come behind $15 is lost.)" */
+    private static void popsEach() {
+        int[] xs = {0, 1, 2, 3, 4, 5, 6, 15, 16, 17, 18, 255};
+        int[] backs = {0, 1, 2, 13, 14, 15, 16};
+        for (int n = 0; n <= 16; n += n == 5 ? 10 : 1) {
+            for (int x : xs) {
+                for (int back : backs) {
+                    popEach(n, x, back);
+                }
+            }
+        }
+    }
+
+    private static void popEach(int n, int x, int back) {
+        StringBuilder lines = new StringBuilder(some(back) + " PUSHJ $" + back + ",A| TRAP 0|A SWYM|");
+        for (int k = 0; k < n; k++) {
+            lines.append(" SETL $").append(k).append(',').append(101 + k).append('|');
+        }
+        PagedMachine m = Tester.ran(lines + " POP " + x, 1);
+        int stay = x > n ? n + 1 : x;
+        long[] due = new long[Math.min(16, back + stay)];
+        for (int i = 0; i < due.length; i++) {
+            int of = i - back;
+            due[i] = of < 0 ? i + 1 : of > 0 ? 100 + of : x > n ? 0 : 100 + x;
+        }
+        registers("behind POP " + x + " with rL " + n + " and " + back + " behind", m, due);
+        Tester.due("depth", m.register(38), 0);
+    }
+
+    /** Writes, PUSHJ, POP and PUT rL in any order, against lists; POP goes on behind itself by rJ. */
+    private static void againstModel(int seed) {
+        ArrayList<Long> local = new ArrayList<>();
+        ArrayList<Long> stack = new ArrayList<>();
+        Random random = new Random(seed);
+        StringBuilder lines = new StringBuilder();
+        for (int i = 0; i < 60; i++) {
+            int kind = random.nextInt(6);
+            int x = random.nextInt(18);
+            if (kind == 0) {
+                lines.append(" PUSHJ $").append(x).append(",@+4|");
+                push(local, stack, x);
+            } else if (kind == 1 && !stack.isEmpty()) {
+                lines.append(" GETA $20,@+12| PUT 3,$20| POP ").append(x).append('|');
+                pop(local, stack, x);
+            } else if (kind == 2 && x > 8) {
+                lines.append(" SETL $20,").append(x - 9).append("| PUT 4,$20|");
+                while (local.size() > x - 9) {
+                    local.remove(local.size() - 1);
+                }
+            } else if (kind > 2) {
+                int k = x % 16;
+                lines.append(" SETL $").append(k).append(',').append(1000 + i).append('|');
+                while (local.size() <= k) {
+                    local.add(0L);
+                }
+                local.set(k, 1000L + i);
+            }
+        }
+        PagedMachine m = Tester.ran(lines + " TRAP 0", 1);
+        long[] due = new long[local.size()];
+        for (int i = 0; i < due.length; i++) {
+            due[i] = local.get(i);
+        }
+        registers("of the seed " + seed, m, due);
+        Tester.due("depth of the seed " + seed, m.register(38), stack.size());
+    }
+
+    private static void push(List<Long> local, List<Long> stack, int x) {
+        int away = x >= 16 ? local.size() : x;
+        while (x < 16 && local.size() <= x) {
+            local.add(0L);
+        }
+        stack.addAll(local.subList(0, away));
+        stack.add((long) away);
+        local.subList(0, Math.min(away + 1, local.size())).clear();
+    }
+
+    private static void pop(List<Long> local, List<Long> stack, int x) {
+        int back = (int) (long) stack.remove(stack.size() - 1);
+        List<Long> top = stack.subList(stack.size() - back, stack.size());
+        List<Long> now = new ArrayList<>(top);
+        top.clear();
+        if (x > 0) {
+            now.add(x > local.size() ? 0L : local.get(x - 1));
+            now.addAll(local.subList(0, x > local.size() ? local.size() : x - 1));
+        }
+        local.clear();
+        local.addAll(now.subList(0, Math.min(16, now.size())));
     }
 }
