@@ -23,6 +23,7 @@ public final class AssembleTest {
         lines();
         starts();
         takesNothing();
+        takesAnEmptyText();
         pagesOnDisk();
         manyLabels();
         Tester.finish("AssembleTest");
@@ -199,6 +200,21 @@ public final class AssembleTest {
         Tester.due("register", m.register(1), 0);
         Tester.due("steps", m.steps(), 0);
         Tester.due("run", m.run(1), 0);
+    }
+
+    /** An empty tape is a text without a line: it is loaded, and its run finds a TRAP 0. */
+    private static void takesAnEmptyText() {
+        PagedMachine m = Tester.ran(" LOC 8|Main SETL $1,5| TRAP 0", 1);
+        Tester.due("assemble", m.assemble(), 0);
+        Tester.due("fault(0)", m.fault(0), 0);
+        Tester.due("fault(1)", m.fault(1), -1);
+        Tester.due("loaded", m.told(6), 1);
+        Tester.due("octa(8)", m.octa(8), 0);
+        Tester.due("$1", m.register(1), 0);
+        Tester.due("the place", m.register(37), 0);
+        Tester.due("run", m.run(5), 1);
+        Tester.due("steps", m.steps(), 1);
+        Tester.due("page 0 was never touched", m.told(1), 0);
     }
 
     private static void pagesOnDisk() {

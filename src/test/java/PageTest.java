@@ -9,6 +9,7 @@ public final class PageTest {
     public static void main(String[] args) {
         frames();
         framesClear();
+        framesBeginAnew();
         refused();
         told();
         byHand();
@@ -89,6 +90,23 @@ public final class PageTest {
         Tester.due("registers stay", m.register(1), one);
         Tester.due("steps stay", m.steps(), steps);
         Tester.due("what is OUT stays", m.outs(), 3);
+    }
+
+    /** Behind frames() a text is taken and run as on a new machine of as many frames. */
+    private static void framesBeginAnew() {
+        int[] all = {2, 3, 5, 64};
+        for (int f : all) {
+            String lines = " LOC 128|Main STB $1,$1,64|A LDB $2,$1| INCL $1,64| CMP $3,$1,255| BNP $3,A| TRAP 0";
+            PagedMachine once = machine(f, lines);
+            PagedMachine again = machine(3, " STB $1,$1,64| STB $1,$1,128| STB $1,$1,192| SETL $31,40| TRAP 1| TRAP 0"
+                    + "| LOC 40| BYTE \"out\",0");
+            Tester.due("run", again.run(99), 1);
+            Tester.due("frames", again.frames(f), f);
+            Tester.due("assemble", Tester.assemble(again, lines.replace('|', '\n')), 0);
+            Tester.due("digest ahead of the run", again.digest(), once.digest());
+            Tester.due("run", again.run(99), once.run(99));
+            Tester.due("digest behind the run", again.digest(), once.digest());
+        }
     }
 
     private static void refused() {

@@ -22,7 +22,6 @@ public final class RefusedTest {
             tellsOnly(state);
         }
         inputRefuses();
-        feedRefuses();
         faultKeepsMemory();
         Tester.finish("RefusedTest");
     }
@@ -176,19 +175,6 @@ public final class RefusedTest {
         Tester.due("so many are left", m.told(7), 3992);
         Tester.due("3 behind 3992", m.input(), 3995);
         Tester.due("the tape is empty then", m.end(1), -1);
-    }
-
-    /** "-1, and nothing comes, if these would be more than 20000" (the calls are more than 512 there). */
-    private static void feedRefuses() {
-        PagedMachine m = new PagedMachine();
-        for (int i = 0; i < 1000; i++) {
-            m.feed(0x06000000, 0, 0, 0, 0);
-        }
-        Tester.due("feed to a full tape", m.feed(1, 1, 1, 1, 1), -1);
-        Tester.due("nothing came", m.end(20001), -1);
-        Tester.due("all is there", m.end(20000), 20000);
-        m.end(9);
-        Tester.due("the first bytes are as they were", m.load(), 0);
     }
 
     /** "-1: it has a FAULT, nothing is loaded (memory and counts stay as they were)". */

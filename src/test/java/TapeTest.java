@@ -42,6 +42,12 @@ public final class TapeTest {
         Tester.due("the last frame", m.page(15), 15);
         Tester.due("no frame behind it", m.page(16), -1);
         Tester.due("the hand has not gone", m.told(4), 0);
+        m = Tester.ran(" SETL $0,16|A LDB $1,$2,64|B INCL $2,64| SUB $0,$0,1| BP $0,A| TRAP 0", 1);
+        Tester.due("a seventeenth page takes frame 0", m.page(0), 16);
+        Tester.due("the code comes to frame 1 then", m.page(1), 0);
+        Tester.due("faults", m.told(0), 18);
+        Tester.due("no frame behind the sixteenth", m.page(16), -1);
+        Tester.due("the hand has gone", m.told(4), 2);
     }
 
     private static void feed() {
@@ -64,18 +70,23 @@ public final class TapeTest {
         Tester.due("feed: the tape was empty", m.feed(0, 0, 0, 0, 0), 20);
     }
 
-    /** A full tape takes more calls than are promised for an object; it must not be overrun then either. */
+    /** "-1, and nothing comes, if these would be more than 20000": more calls than are promised for an object. */
     private static void feedMost() {
         PagedMachine m = new PagedMachine();
         for (int i = 1; i <= 1000; i++) {
-            Tester.due("feed " + i, m.feed(i, i, i, i, i), 20 * i);
+            Tester.due("feed " + i, m.feed(0x06000000, 0, 0x08000000, i, i), 20 * i);
         }
         Tester.due("feed beyond 20000", m.feed(1, 1, 1, 1, 1), -1);
         Tester.due("nothing came", m.end(20001), -1);
+        Tester.due("all is there", m.end(20000), 20000);
         Tester.due("end(19981)", m.end(19981), 19981);
         Tester.due("feed, one too many", m.feed(1, 1, 1, 1, 1), -1);
+        Tester.due("nothing came", m.end(19982), -1);
         Tester.due("end(19980)", m.end(19980), 19980);
         Tester.due("feed, just as many", m.feed(1, 1, 1, 1, 1), 20000);
+        m.end(9);
+        Tester.due("the first bytes are as they were", m.load(), 0);
+        Tester.due("THE PLACE", m.register(37), 8);
     }
 
     private static void end() {

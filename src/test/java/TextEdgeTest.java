@@ -17,6 +17,7 @@ public final class TextEdgeTest {
         lengthsOfLabels();
         lettersOfLabels();
         everyLetterCounts();
+        everyPairOfLettersCounts();
         onlyBlanks();
         endsOfOps();
         blanksInQuotes();
@@ -45,6 +46,8 @@ public final class TextEdgeTest {
         pops();
         traps();
         swym();
+        noOperands();
+        manyUses();
         mains();
         Tester.finish("TextEdgeTest");
     }
@@ -133,6 +136,27 @@ public final class TextEdgeTest {
             octa("abcdefghijkl IS 1|" + new String(name) + " IS 2| BYTE abcdefghijkl", 0, 1L << 56);
             String less = "abcdefghijkl".substring(0, i);
             octa("abcdefghijkl IS 1|x" + less + " IS 2| BYTE abcdefghijkl,x" + less, 0, 0x0102L << 48);
+        }
+    }
+
+    /** Labels of 10 and of 2 that differ in their last two letters alone. */
+    private static void everyPairOfLettersCounts() {
+        String letters = "0129ABWXYZabxyz";
+        String[] heads = {"abcdefgh", "abcde", "a"};
+        for (String head : heads) {
+            StringBuilder text = new StringBuilder();
+            for (int i = 0; i < 225; i++) {
+                text.append(head).append(letters.charAt(i / 15)).append(letters.charAt(i % 15));
+                text.append(" IS ").append(i).append('|');
+            }
+            for (int i = 0; i < 225; i += 5) {
+                text.append(" OCTA ").append(head).append(letters.charAt(i / 15)).append(letters.charAt(i % 15));
+                text.append('|');
+            }
+            PagedMachine m = Tester.assembled(text.toString());
+            for (int i = 0; i < 225; i += 5) {
+                Tester.due("label " + i + " of " + head, m.octa(8 * (i / 5)), i);
+            }
         }
     }
 
@@ -638,6 +662,39 @@ public final class TextEdgeTest {
         fault(3, 6, " SWYM ,");
         fault(3, 6, " SWYM ;");
         fault(3, 7, " SWYM  *|");
+    }
+
+    /** "no OPERAND where one has to begin (behind an OP that takes one at least ..) .. (.. at the line's end ..)". */
+    private static void noOperands() {
+        String[] names = {
+            "NEG", "JMP", "GET", "PUT", "TRAP", "LOC", "BYTE", "TETRA", "OCTA", "BZ", "GETA", "PUSHJ", "SETL", "LDO"
+        };
+        for (String name : names) {
+            int end = 1 + name.length();
+            fault(1, end, " " + name);
+            fault(1, end, " " + name + "|");
+            fault(1, end + 3, " " + name + "   ");
+            fault(1, end + 3, " " + name + "   | SWYM");
+            fault(1, end + 1, " " + name + " *");
+            fault(1, end + 1, " " + name + " ,");
+            fault(1, end + 1, " " + name + " +1");
+        }
+        fault(1, 4, "A IS");
+        fault(1, 6, "A IS  | SWYM");
+        fault(1, 1, " IS");
+        fault(1, 1, " IS 1");
+    }
+
+    /** As many uses of a LABEL ahead as the calls of an object can bring. */
+    private static void manyUses() {
+        StringBuilder text = new StringBuilder(" OCTA A");
+        for (int i = 1; i < 4990; i++) {
+            text.append(",A");
+        }
+        PagedMachine m = Tester.assembled(text + "|A");
+        Tester.due("the first use", m.octa(0), 8 * 4990);
+        Tester.due("the last use", m.octa(8 * 4989), 8 * 4990);
+        Tester.due("nothing behind", m.octa(8 * 4990), 0);
     }
 
     /** "A run begins at the LABEL Main, if there is one that is no REGISTER and not told by IS; else at 0." */
