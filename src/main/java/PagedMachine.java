@@ -1459,7 +1459,7 @@ public final class PagedMachine {
             if (op < 0) {
                 return reader.fail(FAULT_STANDS, opPlace);
             }
-            form = FORMS[op];
+            form = entry(FORMS, op);
             if (form == IS && own < 0) {
                 return reader.fail(FAULT_STANDS, opPlace);
             }
@@ -1483,6 +1483,10 @@ public final class PagedMachine {
             return -1;
         }
 
+        private static int entry(int[] table, int at) {
+            return at >= 0 && at < table.length ? table[at] : 0;
+        }
+
         private int sizeOfForm() {
             if (form == BYTE) {
                 return 1;
@@ -1493,13 +1497,13 @@ public final class PagedMachine {
         private boolean readOperands() {
             reader.skipBlanks();
             if (reader.isAtLineEnd()) {
-                return LEAST[form] == 0 || reader.fail(FAULT_STANDS, reader.at);
+                return entry(LEAST, form) == 0 || reader.fail(FAULT_STANDS, reader.at);
             }
-            if (MOST[form] == 0) {
+            if (entry(MOST, form) == 0) {
                 return reader.fail(FAULT_KIND, reader.at);
             }
             for (int left = reader.length; left > 0; left--) {
-                int slot = SLOTS[form * OPERANDS + Math.min(count, OPERANDS - 1)];
+                int slot = entry(SLOTS, form * OPERANDS + Math.min(count, OPERANDS - 1));
                 if (!readOperand(slot) || !isRight(slot) || !takeOperand(slot)) {
                     return false;
                 }
@@ -1519,14 +1523,14 @@ public final class PagedMachine {
         }
 
         private boolean isMost() {
-            return count >= MOST[form] || form == NEGATE && count == 2 && areRegisters[1] == 1;
+            return count >= entry(MOST, form) || form == NEGATE && count == 2 && areRegisters[1] == 1;
         }
 
         private boolean isEnough() {
             if (form == TRAP && count == 2 || form == NEGATE && count == 2 && areRegisters[1] == 0) {
                 return false;
             }
-            return count >= LEAST[form];
+            return count >= entry(LEAST, form);
         }
 
         private boolean readOperand(int slot) {
@@ -1753,7 +1757,7 @@ public final class PagedMachine {
             long a = values[0];
             long b = values[1];
             long c = values[2];
-            long code = (long) CODES[op] << 24;
+            long code = (long) entry(CODES, op) << 24;
             long odd = areRegisters[2] == 1 ? 0 : 1 << 24;
             switch (form) {
                 case THREE:
